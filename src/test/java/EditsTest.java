@@ -121,6 +121,12 @@ final class EditsTest {
         Check.noState("frozen money is not available", () -> y.pay(1, 5));
         Check.due("what is not frozen is", 0, y.pay(1, 4));
         Check.due("the ledger has it", "1 0 4 1", Desks.entry(y, 1));
+        EscrowDesk z = Desks.of("deposit 99999; fee 2000; milestone a 99999 1 when approved;");
+        Check.due("the greatest fee", 19999, z.pay(0, 99999));
+        Check.due("the rest", 80000, z.received());
+        EscrowDesk w = Desks.of("deposit 99999; fee 1; milestone a 99999 1 when approved;");
+        Check.due("no fee below 10000", 0, w.pay(0, 9999));
+        Check.due("a fee from 10000 on", 1, w.pay(0, 10000));
     }
 
     private static void dispute() {

@@ -167,5 +167,15 @@ final class LedgerTest {
         EscrowDesk y = Desks.of("deposit 1000; milestone a 100 1 when approved;");
         y.pay(0, 10);
         Check.due("day 0", 0, y.busiestDay());
+        EscrowDesk z = Desks.of("deposit 1000; milestone a 100 1 when approved;");
+        z.pass(7);
+        z.pay(0, 1);
+        Check.due("a payment of one", 7, z.busiestDay());
+        for (int deposits = 0; deposits < 59; deposits++) {
+            z.deposit(1);
+        }
+        Check.due("the oldest entry is the only payment", 7, z.busiestDay());
+        z.deposit(1);
+        Check.due("it is lost", EscrowDesk.NONE, z.busiestDay());
     }
 }

@@ -17,6 +17,7 @@ final class MilestonesTest {
         wouldHold();
         dueRanks();
         shortage();
+        tenMilestones();
         Check.end("MilestonesTest");
     }
 
@@ -276,6 +277,9 @@ final class MilestonesTest {
         EscrowDesk y = Desks.of("deposit 5; milestone a 5 1 when always;");
         y.pass(1);
         Check.due("all is paid", 1000, y.progress());
+        EscrowDesk one = Desks.of("deposit 5; milestone a 1 1 when always;");
+        Check.due("a payment of one", 1, one.pass(1));
+        Check.due("the smallest amount", 1000, one.progress());
         StringBuilder large = new StringBuilder();
         for (char name = 'a'; name <= 'j'; name++) {
             large.append("milestone ").append(name).append(" 99999 1 when approved;");
@@ -372,6 +376,29 @@ final class MilestonesTest {
         x.approve(4);
         x.pass(1);
         Check.due("the smallest priority comes first", 4, x.nextDue());
+    }
+
+    private static void tenMilestones() {
+        StringBuilder text = new StringBuilder("deposit 90;");
+        for (char name = 'a'; name <= 'j'; name++) {
+            text.append("milestone ").append(name).append(" 10 ").append('j' - name).append(" when day 2;");
+        }
+        EscrowDesk x = Desks.of(text.toString());
+        Check.due("shortage of ten", 10, x.shortage());
+        Check.due("none is closed", 0, x.closedCount());
+        Check.due("all ten done", true, x.wouldHold(9, 1023) == x.holds(9));
+        Check.noArgument("an eleventh", () -> x.wouldHold(9, 1024) ? 1 : 0);
+        Check.due("the last one first", 2, x.daysUntilClosed(9));
+        Check.due("the first one last, without money", EscrowDesk.NONE, x.daysUntilClosed(0));
+        Check.due("short by day 2", 2, x.shortDay(9));
+        Check.due("nine are paid", 90, x.pass(2));
+        Check.due("nine are closed", 9, x.closedCount());
+        Check.due("900 of 1000", 900, x.progress());
+        Check.due("the first one is due", 0, x.nextDue());
+        Check.due("no money", 0, x.available());
+        Check.due("nine entries and the deposit", 10, x.entries());
+        Check.due("the last one was paid first", 9, x.entry(1, 3));
+        Check.due("the second one was paid last", 1, x.entry(9, 3));
     }
 
     private static void shortage() {

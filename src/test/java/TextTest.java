@@ -14,6 +14,8 @@ final class TextTest {
         tooMany();
         badTextKeepsAll();
         goodTextRenewsAll();
+        textsOneAfterAnother();
+        textsOfManyTokens();
         Check.end("TextTest");
     }
 
@@ -253,6 +255,47 @@ final class TextTest {
         Check.due("it keeps the day", 2, x.day());
         Check.due("it keeps the ledger", 1, x.entries());
         Check.due("it keeps the edits", 1, x.undo());
+    }
+
+    /** Whatever earlier texts said, legal or not, is forgotten: the second and the third text after it, too. */
+    private static void textsOneAfterAnother() {
+        EscrowDesk x = new EscrowDesk();
+        String full = "rate 3000 360; fee 2000; grace 9; deposit 5000; milestone a 10 1 when proof p and proof q;";
+        for (int times = 0; times < 3; times++) {
+            Check.due("a full text", 1, Desks.load(x, full));
+            Check.due("its proofs", 2, x.proofs());
+            x.dispute(0);
+            x.resolve(0, 0);
+            Check.due("a refund", 10, x.refunded());
+            Check.due("a full text that is not legal", EscrowDesk.BAD_TEXT, Desks.load(x, full + "fee 1; ?"));
+            Check.due("a text with a milestone alone", 1, Desks.load(x, "milestone b 70 1 when proof r;"));
+            Check.due("no deposits", 0, x.deposited());
+            Check.due("no refund", 0, x.refunded());
+            Check.due("one proof", 1, x.proofs());
+            Check.due("its name", 'r', x.proofCharacter(0, 0));
+            Check.due("no rate", 0, x.setRate(0, 365));
+            Check.due("no grace", 0, x.setGrace(0));
+            x.deposit(70);
+            Check.due("no fee", 0, x.pay(0, 70));
+        }
+        String wide = "milestone a 1 1 when day 9" + " or day 9".repeat(70) + ";";
+        for (int times = 0; times < 20; times++) {
+            Check.due("a wide condition again and again", 1, Desks.load(x, wide));
+            Check.due("it is judged by its own days", 9, x.dayByClock(0));
+        }
+    }
+
+    private static void textsOfManyTokens() {
+        error(";".repeat(700), 2, 0);
+        error("(".repeat(700), 2, 0);
+        error("a".repeat(700), 1, 0);
+        error("7".repeat(700), 1, 0);
+        error("?".repeat(700), 1, 0);
+        error("a 1".repeat(233) + "?", 2, 0);
+        error(M + "(".repeat(678), 5, 30);
+        error(" ".repeat(699) + ";", 2, 699);
+        error(" ".repeat(693) + "deposit", 2, 700);
+        legal("fee 1;".repeat(116) + "    ", 0);
     }
 
     private static void goodTextRenewsAll() {

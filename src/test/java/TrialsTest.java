@@ -122,6 +122,11 @@ final class TrialsTest {
         x.dispute(1);
         Check.due("no money for b", EscrowDesk.NONE, x.shareFor(1, 1));
         Check.due("no money needed", 0, x.shareFor(1, 0));
+        EscrowDesk y = Desks.of("deposit 300; milestone a 300 1 when approved;");
+        y.dispute(0);
+        Check.due("all of it needs the whole share", 1000, y.shareFor(0, 300));
+        Check.due("all but one", 997, y.shareFor(0, 299));
+        Check.due("one more than all", EscrowDesk.NONE, y.shareFor(0, 301));
         Check.due("a share that shareFor gave", true, x.resolve(0, 337) - x.fees() >= 100);
     }
 
