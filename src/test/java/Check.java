@@ -7,8 +7,18 @@ final class Check {
 
     private static int checked = 0;
     private static int wrong = 0;
+    private static String about = "";
 
     private Check() {
+    }
+
+    /** What the answers to come are about, told with those that are wrong. */
+    static void about(String topic) {
+        about = "[" + topic + "] ";
+    }
+
+    static int answers() {
+        return checked;
     }
 
     static void due(String what, long want, long got) {
@@ -53,7 +63,7 @@ final class Check {
     static void report(String what, String got, String want) {
         wrong++;
         if (wrong <= 40) {
-            System.out.println(what + " answered " + got + ", due is " + want);
+            System.out.println(about + what + " answered " + got + ", due is " + want);
         }
     }
 

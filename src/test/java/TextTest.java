@@ -91,156 +91,142 @@ final class TextTest {
         Check.due("no position now", EscrowDesk.NONE, x.errorPosition());
     }
 
-    private static void legal(String text, int milestones) {
-        EscrowDesk x = new EscrowDesk();
-        Check.due(text, milestones, Desks.load(x, text));
-        Check.due(text + ": errorKind", 0, x.errorKind());
-        Check.due(text + ": errorPosition", EscrowDesk.NONE, x.errorPosition());
-    }
-
-    private static void error(String text, int kind, int position) {
-        EscrowDesk x = new EscrowDesk();
-        Check.due(text, EscrowDesk.BAD_TEXT, Desks.load(x, text));
-        Check.due(text + ": errorKind", kind, x.errorKind());
-        Check.due(text + ": errorPosition", position, x.errorPosition());
-    }
-
     private static void legalTexts() {
-        legal("", 0);
-        legal(" \n ", 0);
-        legal("\nrate 0 360;rate 3000 365;fee 0;fee 2000;grace 0;grace 60;deposit 1;deposit 99999;", 0);
-        legal("rate3000\n365;fee00007;", 0);
-        legal("milestone abcdefghi 99999 99 when always;milestone b 1 0 when done abcdefghi;", 2);
-        legal(M + "day 0 or day 999 and proof a or sum 0 and sum 99999 or approved;", 1);
-        legal(M + "not not(not(not(always)and not approved)or(day 3));", 1);
-        legal(M + "not(not(not(not(always))));", 1);
-        legal(M + "((((((((always)))))))) and ((((((((always))))))));", 1);
-        legal(M + "not not not not not not not not always or not not not not not not not not always;", 1);
-        legal(M + "proof rates or proof a or proof daya;", 1);
-        legal(M + "(always) ; \n", 1);
+        Texts.legal("", 0);
+        Texts.legal(" \n ", 0);
+        Texts.legal("\nrate 0 360;rate 3000 365;fee 0;fee 2000;grace 0;grace 60;deposit 1;deposit 99999;", 0);
+        Texts.legal("rate3000\n365;fee00007;", 0);
+        Texts.legal("milestone abcdefghi 99999 99 when always;milestone b 1 0 when done abcdefghi;", 2);
+        Texts.legal(M + "day 0 or day 999 and proof a or sum 0 and sum 99999 or approved;", 1);
+        Texts.legal(M + "not not(not(not(always)and not approved)or(day 3));", 1);
+        Texts.legal(M + "not(not(not(not(always))));", 1);
+        Texts.legal(M + "((((((((always)))))))) and ((((((((always))))))));", 1);
+        Texts.legal(M + "not not not not not not not not always or not not not not not not not not always;", 1);
+        Texts.legal(M + "proof rates or proof a or proof daya;", 1);
+        Texts.legal(M + "(always) ; \n", 1);
     }
 
     private static void illegalTokens() {
-        error("deposit 5 ,", 1, 10);
-        error("Deposit 5;", 1, 0);
-        error("deposit 5;\t", 1, 10);
-        error("deposit -5;", 1, 8);
-        error("deposit 000001;", 1, 8);
-        error("milestone abcdefghij 1 1 when always;", 1, 10);
-        error("depositdeposit", 1, 0);
-        error("deposit 5{", 1, 9);
-        error("deposit 5`", 1, 9);
-        error("deposit 5/", 1, 9);
-        error("deposit 5:", 1, 9);
-        error("deposit_5", 1, 7);
-        error("deposit 0 ?", 3, 8);
-        error("deposit deposit ?", 2, 8);
-        error(M + "proof ?", 1, 28);
-        error(M + "done ?", 1, 27);
-        error("milestone ? 1 1 when always;", 1, 10);
-        error("rate 5 123456;", 1, 7);
+        Texts.error("deposit 5 ,", 1, 10);
+        Texts.error("Deposit 5;", 1, 0);
+        Texts.error("deposit 5;\t", 1, 10);
+        Texts.error("deposit -5;", 1, 8);
+        Texts.error("deposit 000001;", 1, 8);
+        Texts.error("milestone abcdefghij 1 1 when always;", 1, 10);
+        Texts.error("depositdeposit", 1, 0);
+        Texts.error("deposit 5{", 1, 9);
+        Texts.error("deposit 5`", 1, 9);
+        Texts.error("deposit 5/", 1, 9);
+        Texts.error("deposit 5:", 1, 9);
+        Texts.error("deposit_5", 1, 7);
+        Texts.error("deposit 0 ?", 3, 8);
+        Texts.error("deposit deposit ?", 2, 8);
+        Texts.error(M + "proof ?", 1, 28);
+        Texts.error(M + "done ?", 1, 27);
+        Texts.error("milestone ? 1 1 when always;", 1, 10);
+        Texts.error("rate 5 123456;", 1, 7);
     }
 
     private static void unexpectedTokens() {
-        error("hello", 2, 0);
-        error(";", 2, 0);
-        error("5", 2, 0);
-        error("when", 2, 0);
-        error("deposit", 2, 7);
-        error("deposit 5  ", 2, 11);
-        error("deposit 5 deposit 6;", 2, 10);
-        error("deposit ;", 2, 8);
-        error("deposit x;", 2, 8);
-        error("rate 5;", 2, 6);
-        error("rate ;", 2, 5);
-        error("rate 5 360 1;", 2, 11);
-        error("rate 5 x", 2, 7);
-        error("fee x;", 2, 4);
-        error("fee 5 5;", 2, 6);
-        error("grace (;", 2, 6);
-        error("grace 5 )", 2, 8);
-        error("milestone 5 1 1 when always;", 2, 10);
-        error("milestone ; 1 1 when always;", 2, 10);
-        error("milestone a x 1 when always;", 2, 12);
-        error("milestone a 1 when always;", 2, 14);
-        error("milestone a 1 1 always;", 2, 16);
-        error(M + ";", 2, 22);
-        error(M + "always", 2, 28);
-        error(M + "always always;", 2, 29);
-        error(M + "always);", 2, 28);
-        error(M + "(always;", 2, 29);
-        error(M + "(always", 2, 29);
-        error(M + "();", 2, 23);
-        error(M + "and always;", 2, 22);
-        error(M + "always or;", 2, 31);
-        error(M + "always and or always;", 2, 33);
-        error(M + "not;", 2, 25);
-        error(M + "day x;", 2, 26);
-        error(M + "day;", 2, 25);
-        error(M + "sum proof;", 2, 26);
-        error(M + "proof 5;", 2, 28);
-        error(M + "done 5;", 2, 27);
-        error(M + "approved 5;", 2, 31);
-        error(M + "when;", 2, 22);
-        error(M + "b;", 2, 22);
+        Texts.error("hello", 2, 0);
+        Texts.error(";", 2, 0);
+        Texts.error("5", 2, 0);
+        Texts.error("when", 2, 0);
+        Texts.error("deposit", 2, 7);
+        Texts.error("deposit 5  ", 2, 11);
+        Texts.error("deposit 5 deposit 6;", 2, 10);
+        Texts.error("deposit ;", 2, 8);
+        Texts.error("deposit x;", 2, 8);
+        Texts.error("rate 5;", 2, 6);
+        Texts.error("rate ;", 2, 5);
+        Texts.error("rate 5 360 1;", 2, 11);
+        Texts.error("rate 5 x", 2, 7);
+        Texts.error("fee x;", 2, 4);
+        Texts.error("fee 5 5;", 2, 6);
+        Texts.error("grace (;", 2, 6);
+        Texts.error("grace 5 )", 2, 8);
+        Texts.error("milestone 5 1 1 when always;", 2, 10);
+        Texts.error("milestone ; 1 1 when always;", 2, 10);
+        Texts.error("milestone a x 1 when always;", 2, 12);
+        Texts.error("milestone a 1 when always;", 2, 14);
+        Texts.error("milestone a 1 1 always;", 2, 16);
+        Texts.error(M + ";", 2, 22);
+        Texts.error(M + "always", 2, 28);
+        Texts.error(M + "always always;", 2, 29);
+        Texts.error(M + "always);", 2, 28);
+        Texts.error(M + "(always;", 2, 29);
+        Texts.error(M + "(always", 2, 29);
+        Texts.error(M + "();", 2, 23);
+        Texts.error(M + "and always;", 2, 22);
+        Texts.error(M + "always or;", 2, 31);
+        Texts.error(M + "always and or always;", 2, 33);
+        Texts.error(M + "not;", 2, 25);
+        Texts.error(M + "day x;", 2, 26);
+        Texts.error(M + "day;", 2, 25);
+        Texts.error(M + "sum proof;", 2, 26);
+        Texts.error(M + "proof 5;", 2, 28);
+        Texts.error(M + "done 5;", 2, 27);
+        Texts.error(M + "approved 5;", 2, 31);
+        Texts.error(M + "when;", 2, 22);
+        Texts.error(M + "b;", 2, 22);
         String[] words = {"rate", "fee", "grace", "deposit", "milestone", "when", "or", "and", "not", "day", "proof",
             "done", "sum", "approved", "always"};
         for (String word : words) {
-            error("milestone " + word + " 1 1 when always;", 2, 10);
-            error(M + "proof " + word + ";", 2, 28);
-            error(M + "done " + word + ";", 2, 27);
+            Texts.error("milestone " + word + " 1 1 when always;", 2, 10);
+            Texts.error(M + "proof " + word + ";", 2, 28);
+            Texts.error(M + "done " + word + ";", 2, 27);
         }
     }
 
     private static void ranges() {
-        error("rate 3001 360;", 3, 5);
-        error("rate 99999 360;", 3, 5);
+        Texts.error("rate 3001 360;", 3, 5);
+        Texts.error("rate 99999 360;", 3, 5);
         for (int basis : new int[] {0, 359, 361, 362, 363, 364, 366, 99999}) {
-            error("rate 1 " + basis + ";", 3, 7);
+            Texts.error("rate 1 " + basis + ";", 3, 7);
         }
-        error("fee 2001;", 3, 4);
-        error("grace 61;", 3, 6);
-        error("deposit 0;", 3, 8);
-        error("deposit 00000;", 3, 8);
-        error("milestone a 0 1 when always;", 3, 12);
-        error("milestone a 1 100 when always;", 3, 14);
-        error(M + "day 1000;", 3, 26);
-        legal(M + "sum 99999;", 1);
-        legal("milestone a 1 0 when day 999;", 1);
+        Texts.error("fee 2001;", 3, 4);
+        Texts.error("grace 61;", 3, 6);
+        Texts.error("deposit 0;", 3, 8);
+        Texts.error("deposit 00000;", 3, 8);
+        Texts.error("milestone a 0 1 when always;", 3, 12);
+        Texts.error("milestone a 1 100 when always;", 3, 14);
+        Texts.error(M + "day 1000;", 3, 26);
+        Texts.legal(M + "sum 99999;", 1);
+        Texts.legal("milestone a 1 0 when day 999;", 1);
     }
 
     private static void names() {
-        error("milestone a 1 1 when always; milestone a", 4, 39);
-        error("milestone aa 1 1 when always; milestone a 1 1 when always; milestone aa", 4, 69);
-        legal("milestone a 1 1 when always; milestone aa 1 1 when done a; milestone b 1 1 when done aa;", 3);
-        error("milestone a 1 1 when done a;", 4, 26);
-        error("milestone a 1 1 when proof b and done b;", 4, 38);
-        error("milestone a 1 1 when always; milestone b 1 1 when done c; milestone c 1 1 when always;", 4, 55);
-        legal("milestone a 1 1 when proof a; milestone b 1 1 when proof b and done a;", 2);
+        Texts.error("milestone a 1 1 when always; milestone a", 4, 39);
+        Texts.error("milestone aa 1 1 when always; milestone a 1 1 when always; milestone aa", 4, 69);
+        Texts.legal("milestone a 1 1 when always; milestone aa 1 1 when done a; milestone b 1 1 when done aa;", 3);
+        Texts.error("milestone a 1 1 when done a;", 4, 26);
+        Texts.error("milestone a 1 1 when proof b and done b;", 4, 38);
+        Texts.error("milestone a 1 1 when always; milestone b 1 1 when done c; milestone c 1 1 when always;", 4, 55);
+        Texts.legal("milestone a 1 1 when proof a; milestone b 1 1 when proof b and done a;", 2);
     }
 
     private static void tooMany() {
         String six = "deposit 1;deposit 1;deposit 1;deposit 1;deposit 1;deposit 1;";
-        legal(six, 0);
-        error(six + " deposit", 5, 61);
-        error(six + "deposit 0;", 5, 60);
+        Texts.legal(six, 0);
+        Texts.error(six + " deposit", 5, 61);
+        Texts.error(six + "deposit 0;", 5, 60);
         StringBuilder ten = new StringBuilder();
         for (char name = 'a'; name <= 'j'; name++) {
             ten.append("milestone ").append(name).append(" 1 1 when always;");
         }
-        legal(ten.toString(), 10);
-        error(ten + "milestone", 5, ten.length());
-        error(ten + "deposit 1; milestone a", 5, ten.length() + 11);
+        Texts.legal(ten.toString(), 10);
+        Texts.error(ten + "milestone", 5, ten.length());
+        Texts.error(ten + "deposit 1; milestone a", 5, ten.length() + 11);
         String eight = M + "proof a or proof b or proof c or proof d or proof e or proof f or proof g or proof h";
-        legal(eight + " or proof a or proof h;", 1);
-        error(eight + " or proof i;", 5, eight.length() + 10);
-        error(eight + " or proof or", 2, eight.length() + 10);
-        error(eight + "; milestone b 1 1 when proof a and proof x;", 5, eight.length() + 41);
-        error(M + "((((((((( always", 5, 30);
-        error(M + "not not not not not not not not not", 5, 54);
-        error(M + "not (not (not (not (not always", 5, 42);
-        error(M + "not(not(not(not(always or day 1 and (always", 5, 58);
-        error(M + "((((((((always)) and (not (", 5, 48);
+        Texts.legal(eight + " or proof a or proof h;", 1);
+        Texts.error(eight + " or proof i;", 5, eight.length() + 10);
+        Texts.error(eight + " or proof or", 2, eight.length() + 10);
+        Texts.error(eight + "; milestone b 1 1 when proof a and proof x;", 5, eight.length() + 41);
+        Texts.error(M + "((((((((( always", 5, 30);
+        Texts.error(M + "not not not not not not not not not", 5, 54);
+        Texts.error(M + "not (not (not (not (not always", 5, 42);
+        Texts.error(M + "not(not(not(not(always or day 1 and (always", 5, 58);
+        Texts.error(M + "((((((((always)) and (not (", 5, 48);
     }
 
     private static void badTextKeepsAll() {
@@ -286,16 +272,16 @@ final class TextTest {
     }
 
     private static void textsOfManyTokens() {
-        error(";".repeat(700), 2, 0);
-        error("(".repeat(700), 2, 0);
-        error("a".repeat(700), 1, 0);
-        error("7".repeat(700), 1, 0);
-        error("?".repeat(700), 1, 0);
-        error("a 1".repeat(233) + "?", 2, 0);
-        error(M + "(".repeat(678), 5, 30);
-        error(" ".repeat(699) + ";", 2, 699);
-        error(" ".repeat(693) + "deposit", 2, 700);
-        legal("fee 1;".repeat(116) + "    ", 0);
+        Texts.error(";".repeat(700), 2, 0);
+        Texts.error("(".repeat(700), 2, 0);
+        Texts.error("a".repeat(700), 1, 0);
+        Texts.error("7".repeat(700), 1, 0);
+        Texts.error("?".repeat(700), 1, 0);
+        Texts.error("a 1".repeat(233) + "?", 2, 0);
+        Texts.error(M + "(".repeat(678), 5, 30);
+        Texts.error(" ".repeat(699) + ";", 2, 699);
+        Texts.error(" ".repeat(693) + "deposit", 2, 700);
+        Texts.legal("fee 1;".repeat(116) + "    ", 0);
     }
 
     private static void goodTextRenewsAll() {

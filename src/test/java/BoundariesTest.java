@@ -1,0 +1,14 @@
+/** Every clause of the document, each with tests of its own on both sides of what it allows; none may be without one. */
+final class BoundariesTest {
+    public static void main(String[] args) {
+        TextBoundaries.run();
+        MoneyBoundaries.run();
+        ErrorBoundaries.run();
+        PromiseBoundaries.run();
+        TellingBoundaries.run();
+        TrialBoundaries.run();
+        EditBoundaries.run();
+        Document.everyClauseIsTested();
+        Check.end("BoundariesTest");
+    }
+}
