@@ -62,7 +62,8 @@ final class EditBoundaries {
     }
 
     private static void submit() {
-        EscrowDesk x = Desks.of("milestone a 1 1 when proof a or proof b or proof c or proof d or proof e or proof f or proof g or proof h;");
+        EscrowDesk x = Desks.of("milestone a 1 1 when proof a or proof b or proof c or proof d or proof e or proof f or proof"
+            + " g or proof h;");
         Document.says(43, "Returns whether it had not been submitted before.");
         for (int proof = 0; proof < 8; proof++) {
             Check.due("the first time", true, x.submit(proof));
@@ -94,7 +95,8 @@ final class EditBoundaries {
 
     private static void approve() {
         Document.says(44, "Approves a milestone.");
-        EscrowDesk x = Desks.of("milestone a 1 1 when approved; milestone b 1 1 when approved and day 2; milestone c 1 1 when not approved;");
+        EscrowDesk x = Desks.of("milestone a 1 1 when approved; milestone b 1 1 when approved and day 2; milestone c 1 1 when"
+            + " not approved;");
         x.approve(0);
         Check.due("this one", true, x.holds(0));
         Check.due("no other", true, x.holds(2));
@@ -141,7 +143,8 @@ final class EditBoundaries {
     }
 
     private static void payNotPossible() {
-        Document.says(45, "Throws `IllegalStateException` if the milestone is disputed, or if amount is greater than the available money");
+        Document.says(45, "Throws `IllegalStateException` if the milestone is disputed, or if amount is greater than the"
+            + " available money");
         EscrowDesk x = Desks.of("deposit 50; milestone a 60 1 when approved; milestone b 20 1 when approved;");
         String before = Story.now(x);
         Check.noState("51 of 50", () -> x.pay(0, 51));
@@ -189,7 +192,8 @@ final class EditBoundaries {
         poor.deposit(50);
         Check.due("a later deposit is not frozen", 50, poor.available());
         Document.says(46, "Returns the frozen amount.");
-        EscrowDesk z = Desks.of("deposit 60; milestone a 50 1 when approved; milestone b 50 1 when approved; milestone c 50 1 when approved;");
+        EscrowDesk z = Desks.of("deposit 60; milestone a 50 1 when approved; milestone b 50 1 when approved; milestone c 50 1"
+            + " when approved;");
         Check.due("all that remains", 50, z.dispute(0));
         Check.due("all that is available", 10, z.dispute(1));
         Check.due("nothing", 0, z.dispute(2));
@@ -204,7 +208,8 @@ final class EditBoundaries {
     }
 
     private static void withdraw() {
-        EscrowDesk x = Desks.of("grace 60; deposit 100; milestone a 60 1 when always; milestone b 30 1 when approved; milestone c 99 1 when always;");
+        EscrowDesk x = Desks.of("grace 60; deposit 100; milestone a 60 1 when always; milestone b 30 1 when approved;"
+            + " milestone c 99 1 when always;");
         x.pass(1);
         x.dispute(0);
         x.dispute(1);
@@ -232,7 +237,8 @@ final class EditBoundaries {
     }
 
     private static void resolve() {
-        String payment = "A payment of x * share / 1000, rounded down, is made for the milestone, then the rest of x is refunded to the buyer.";
+        String payment = "A payment of x * share / 1000, rounded down, is made for the milestone, then the rest of x is"
+            + " refunded to the buyer.";
         Document.says(48, "Ends a dispute by a split.");
         EscrowDesk x = Desks.of("fee 2000; deposit 100; milestone a 99 1 when approved; milestone b 7 1 when approved;");
         x.dispute(0);
@@ -407,7 +413,8 @@ final class EditBoundaries {
 
     private static void pass() {
         Document.says(54, "Lets days pass.");
-        String text = "rate 3000 360; fee 900; grace 2; deposit 900; milestone a 300 5 when day 7; milestone b 400 1 when done a; milestone c 500 9 when sum 600;";
+        String text = "rate 3000 360; fee 900; grace 2; deposit 900; milestone a 300 5 when day 7; milestone b 400 1 when done"
+            + " a; milestone c 500 9 when sum 600;";
         for (int days : new int[] {1, 2, 29, 30, 31, 60, 119, 120}) {
             EscrowDesk x = Desks.of(text);
             EscrowDesk single = Desks.of(text);

@@ -202,7 +202,8 @@ final class ErrorBoundaries {
     }
 
     private static void whatAnEditIs() {
-        Document.says(SECTION, "Edits are the methods deposit, submit, approve, pay, dispute, withdraw, resolve, cancel, payInterest,");
+        Document.says(SECTION, "Edits are the methods deposit, submit, approve, pay, dispute, withdraw, resolve, cancel,"
+            + " payInterest,");
         EscrowDesk x = Desks.of("rate 3000 360; deposit 1000; milestone a 60 1 when proof p; milestone b 60 1 when approved;");
         int number = 0;
         for (Check.Call edit : edits(x)) {
@@ -233,7 +234,8 @@ final class ErrorBoundaries {
         EscrowDesk x = Desks.of("rate 7 365; grace 9; milestone a 60 1 when proof p or approved;");
         x.submit(0);
         x.approve(0);
-        List<Check.Call> idle = List.of(() -> x.submit(0) ? 1 : 0, () -> x.approve(0) ? 1 : 0, () -> x.setRate(7, 365), () -> x.setGrace(9));
+        List<Check.Call> idle = List.of(() -> x.submit(0) ? 1 : 0, () -> x.approve(0) ? 1 : 0, () -> x.setRate(7, 365),
+            () -> x.setGrace(9));
         int remembered = 2;
         for (Check.Call edit : idle) {
             String before = Story.now(x);

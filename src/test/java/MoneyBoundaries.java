@@ -102,7 +102,8 @@ final class MoneyBoundaries {
     }
 
     private static void states() {
-        Document.says("MONEY", "The states of a milestone are: 0 open (at first), 1 due, 2 disputed, 3 paid, 4 settled, 5 cancelled.");
+        Document.says("MONEY", "The states of a milestone are: 0 open (at first), 1 due, 2 disputed, 3 paid, 4 settled, 5"
+            + " cancelled.");
         EscrowDesk x = Desks.of("deposit 100; grace 60; milestone a 10 1 when always; milestone b 10 1 when always;"
             + "milestone c 10 1 when always; milestone d 10 1 when approved;");
         for (int milestone = 0; milestone < 4; milestone++) {
@@ -162,7 +163,8 @@ final class MoneyBoundaries {
         x.pay(3, 20);
         Check.due("paid", 0, x.frozen(3));
         Document.says("MONEY", "The available money is the principal minus the frozen amounts of all milestones.");
-        EscrowDesk y = Desks.of("deposit 100; milestone a 60 1 when always; milestone b 39 1 when always; milestone c 9 1 when approved;");
+        EscrowDesk y = Desks.of("deposit 100; milestone a 60 1 when always; milestone b 39 1 when always; milestone c 9 1 when"
+            + " approved;");
         Check.due("nothing is frozen", 100, y.available());
         y.dispute(0);
         Check.due("60 are frozen", 40, y.available());
@@ -178,7 +180,8 @@ final class MoneyBoundaries {
     }
 
     private static void payments() {
-        Document.says("MONEY", "A payment of an amount for a milestone takes it from the principal and adds it to the paid amount.");
+        Document.says("MONEY", "A payment of an amount for a milestone takes it from the principal and adds it to the paid"
+            + " amount.");
         EscrowDesk x = Desks.of("fee 2000; deposit 100; milestone a 60 1 when approved; milestone b 60 1 when approved;");
         x.pay(0, 1);
         Check.due("principal", 99, x.principal());
@@ -273,7 +276,8 @@ final class MoneyBoundaries {
         cancelled.cancel(0);
         Check.due("cancelled", false, cancelled.holds(1));
         Document.says("CONDITIONS", "\"sum\" if the payments so far (fees included) are SUM or more;");
-        EscrowDesk y = Desks.of("fee 2000; deposit 100; milestone a 60 1 when approved; milestone b 60 1 when sum 50; milestone c 1 1 when sum 0;");
+        EscrowDesk y = Desks.of("fee 2000; deposit 100; milestone a 60 1 when approved; milestone b 60 1 when sum 50;"
+            + " milestone c 1 1 when sum 0;");
         Check.due("0 is 0 or more", true, y.holds(2));
         y.pay(0, 49);
         Check.due("49 of 50", false, y.holds(1));
@@ -365,7 +369,8 @@ final class MoneyBoundaries {
     }
 
     private static void credits() {
-        Document.says("A DAY", "(3) If the present day is divisible by 30, the accrued parts are divided by 10000 * BASIS: the quotient is credited");
+        Document.says("A DAY", "(3) If the present day is divisible by 30, the accrued parts are divided by 10000 * BASIS: the"
+            + " quotient is credited");
         EscrowDesk x = Desks.of("rate 3000 360; deposit 1000;");
         x.pass(29);
         Check.due("day 29", 0, x.credited());
@@ -405,7 +410,8 @@ final class MoneyBoundaries {
 
     private static void becomingDue() {
         Document.says("A DAY", "(4) Each open milestone, in order of number, whose condition holds becomes due;");
-        EscrowDesk x = Desks.of("grace 60; deposit 9; milestone a 1 1 when always; milestone b 1 1 when day 2; milestone c 1 1 when always;"
+        EscrowDesk x = Desks.of("grace 60; deposit 9; milestone a 1 1 when always; milestone b 1 1 when day 2; milestone c 1 1"
+            + " when always;"
             + "milestone d 1 1 when always; milestone e 1 1 when approved; milestone f 1 1 when not day 1;");
         Check.due("not before a day passes", 0, x.state(0));
         x.dispute(2);
@@ -433,7 +439,8 @@ final class MoneyBoundaries {
     }
 
     private static void payingTheDue() {
-        String fifth = "(5) The due milestones for which the present day is at least their due day plus the grace period are paid";
+        String fifth = "(5) The due milestones for which the present day is at least their due day plus the grace period are"
+            + " paid";
         Document.says("A DAY", fifth);
         for (int grace : new int[] {0, 1, 5, 60}) {
             EscrowDesk x = Desks.of("grace " + grace + "; deposit 10; milestone a 10 1 when day 3;");
@@ -462,7 +469,8 @@ final class MoneyBoundaries {
 
     private static void orderOfPayments() {
         Document.says("A DAY", "in order of their priorities, smaller ones first, and of equal priorities in order of number");
-        EscrowDesk x = Desks.of("deposit 28; milestone a 5 99 when always; milestone b 6 98 when always; milestone c 7 0 when always;"
+        EscrowDesk x = Desks.of("deposit 28; milestone a 5 99 when always; milestone b 6 98 when always; milestone c 7 0 when"
+            + " always;"
             + "milestone d 8 1 when always; milestone e 9 0 when always;");
         x.pass(1);
         Check.due("priority 0", "1 1 7 2", Desks.entry(x, 1));
@@ -480,15 +488,18 @@ final class MoneyBoundaries {
     }
 
     private static void ledgerKinds() {
-        Document.says("LEDGER", "The ledger records, in order: 0 each deposit, 1 each payment (with its amount including the fee), 2 each refund,");
-        EscrowDesk x = Desks.of("rate 3000 360; fee 2000; deposit 4000; milestone a 100 1 when day 29; milestone b 100 1 when approved;");
+        Document.says("LEDGER", "The ledger records, in order: 0 each deposit, 1 each payment (with its amount including the"
+            + " fee), 2 each refund,");
+        EscrowDesk x = Desks.of("rate 3000 360; fee 2000; deposit 4000; milestone a 100 1 when day 29; milestone b 100 1 when"
+            + " approved;");
         x.pass(30);
         x.dispute(1);
         x.resolve(1, 250);
         x.payInterest(1);
         x.deposit(1);
         x.close();
-        String[] due = {"0 0 4000 -1", "1 29 100 0", "3 30 99 -1", "1 30 25 1", "2 30 75 1", "4 30 1 -1", "0 30 1 -1", "2 30 3801 -1"};
+        String[] due = {"0 0 4000 -1", "1 29 100 0", "3 30 99 -1", "1 30 25 1", "2 30 75 1", "4 30 1 -1", "0 30 1 -1",
+            "2 30 3801 -1"};
         Check.due("entries", due.length, x.entries());
         for (int entry = 0; entry < due.length; entry++) {
             Check.due("entry " + entry, due[entry], Desks.entry(x, entry));
@@ -526,7 +537,8 @@ final class MoneyBoundaries {
         x.pass(1);
         x.deposit(9);
         Check.due("others on their day", "0 1 9 -1", Desks.entry(x, 2));
-        Document.says("LEDGER", "Each entry has a kind, a day, an amount and the number of the milestone (NONE for the kinds 0, 3, 4, and for");
+        Document.says("LEDGER", "Each entry has a kind, a day, an amount and the number of the milestone (NONE for the kinds"
+            + " 0, 3, 4, and for");
         EscrowDesk y = Desks.of("rate 3000 360; deposit 4000; milestone a 50 1 when approved; milestone b 50 1 when approved;");
         y.pass(30);
         y.payInterest(1);

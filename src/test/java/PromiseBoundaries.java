@@ -54,7 +54,8 @@ final class PromiseBoundaries {
             for (int milestone = 0; milestone < milestones; milestone++) {
                 EscrowDesk fresh = ofADispute ? disputed(milestones) : open(milestones);
                 int there = milestone;
-                Check.due(there + " of " + milestones, false, Check.outcome(() -> call.answer(fresh, there)).endsWith("Exception"));
+                Check.due(there + " of " + milestones, false, Check.outcome(() -> call.answer(fresh,
+                    there)).endsWith("Exception"));
             }
         }
     }
@@ -84,7 +85,8 @@ final class PromiseBoundaries {
     }
 
     /** The last values that are allowed, and the first ones that are not; these change nothing and are no edits. */
-    private static void range(int promise, String range, String refusal, Supplier<EscrowDesk> made, With call, int low, int high) {
+    private static void range(int promise, String range, String refusal, Supplier<EscrowDesk> made, With call, int low,
+        int high) {
         Document.says(promise, range);
         for (int value : new int[] {low, Math.min(low + 1, high), high - 1 < low ? low : high - 1, high}) {
             EscrowDesk x = made.get();
@@ -116,7 +118,8 @@ final class PromiseBoundaries {
         x.pass(120);
         Check.due("120 days", 121, x.day());
         // Each reaches just as far as it is asked to.
-        String text = "deposit 500; milestone a 50 1 when day 120; milestone b 50 1 when day 1; milestone c 99999 9 when day 119;";
+        String text = "deposit 500; milestone a 50 1 when day 120; milestone b 50 1 when day 1; milestone c 99999 9 when day"
+            + " 119;";
         Document.says(35, DAYS);
         Check.due("the payment of day 1", 50, Desks.of(text).paymentsAfter(1));
         Check.due("the payments of day 119", 500, Desks.of(text).paymentsAfter(119));
@@ -231,14 +234,17 @@ final class PromiseBoundaries {
     private static void kindsAndParts() {
         range(59, "- `what`: 0 for the kind, 1 for the day, 2 for the amount, 3 for the milestone",
             "Throws `IllegalArgumentException` if what is out of range", () -> open(1), (x, what) -> x.entry(0, what), 0, 3);
-        range(60, "- `kind`: 0 to 4", "Throws `IllegalArgumentException` if kind is out of range", () -> open(1), (x, kind) -> x.totalOn(0, kind), 0, 4);
+        range(60, "- `kind`: 0 to 4", "Throws `IllegalArgumentException` if kind is out of range", () -> open(1), (x,
+            kind) -> x.totalOn(0, kind), 0, 4);
         range(3, "- `length`: number of bytes of the text, 0 to the number of bytes in the buffer",
-            "Throws `IllegalArgumentException` if length is out of range (the buffer keeps its bytes)", EscrowDesk::new, (x, length) -> x.load(length), 0, 0);
+            "Throws `IllegalArgumentException` if length is out of range (the buffer keeps its bytes)", EscrowDesk::new, (x,
+                length) -> x.load(length), 0, 0);
     }
 
     private static void sets() {
         for (int milestones : new int[] {1, 2, 9, 10}) {
-            range(31, "others than the numbers of milestones must not be in it", "Throws `IllegalArgumentException` if set is out of range",
+            range(31, "others than the numbers of milestones must not be in it", "Throws `IllegalArgumentException` if set is"
+                + " out of range",
                 () -> open(milestones), (x, set) -> x.wouldHold(0, set) ? 1 : 0, 0, (1 << milestones) - 1);
         }
         Document.says(31, "Throws `IllegalArgumentException` if set is out of range");

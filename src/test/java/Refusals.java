@@ -14,11 +14,13 @@ import java.util.function.Supplier;
  * must leave no trace: the desk goes on as its twin that was never asked. An edit that is undone must leave none either.
  */
 final class Refusals {
-    private static final List<String> EDITS = List.of("deposit", "submit", "approve", "pay", "dispute", "withdraw", "resolve", "cancel",
+    private static final List<String> EDITS = List.of("deposit", "submit", "approve", "pay", "dispute", "withdraw", "resolve",
+        "cancel",
         "payInterest", "close", "setRate", "setGrace", "pass");
     private static final List<String> APART = List.of("feed", "load", "undo", "write");
     private static final int[] PLACES = {-1, 0, 1, 2, 3, 4, 5, 6, 7, 8, 9, 10, 59, 60, Integer.MIN_VALUE, Integer.MAX_VALUE};
-    private static final int[] VALUES = {Integer.MIN_VALUE, -1, 0, 1, 2, 3, 4, 5, 40, 59, 60, 61, 120, 121, 359, 360, 361, 365, 366, 1000, 1001,
+    private static final int[] VALUES = {Integer.MIN_VALUE, -1, 0, 1, 2, 3, 4, 5, 40, 59, 60, 61, 120, 121, 359, 360, 361, 365,
+        366, 1000, 1001,
         1023, 1024, 3000, 3001, 99999, 100000, Integer.MAX_VALUE};
     private static final String RICH = "rate 3000 360;fee 500;grace 3;deposit 900;deposit 90;"
         + "milestone open 40 1 when proof pa and approved;milestone due 300 2 when proof pb or day 2;"
@@ -231,7 +233,8 @@ final class Refusals {
     private static void badTextKeepsAllButTheBuffer(String state, Supplier<EscrowDesk> made) {
         String before = Story.now(made.get());
         String twin = Story.whole(withBadText(made.get(), "day"));
-        String[] texts = {"?", "deposit 1;".repeat(7), "rate 1 361;", RICH + "?", "fee 3; deposit 5; milestone q 1 1 when proof z and done q;"};
+        String[] texts = {"?", "deposit 1;".repeat(7), "rate 1 361;", RICH + "?",
+            "fee 3; deposit 5; milestone q 1 1 when proof z and done q;"};
         for (String bad : texts) {
             EscrowDesk asked = withBadText(made.get(), bad);
             Check.due(state + " as before behind " + bad, before, Story.now(asked));

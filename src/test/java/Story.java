@@ -57,7 +57,8 @@ final class Story {
 
     private static String trials(EscrowDesk x, int milestone) {
         return x.paidAfter(milestone, 1) + " " + x.paidAfter(milestone, 120) + " " + x.daysUntilClosed(milestone) + " "
-            + Check.outcome(() -> x.splitPayment(milestone, 500)) + " " + Check.outcome(() -> x.splitPayment(milestone, 1000)) + " "
+            + Check.outcome(() -> x.splitPayment(milestone, 500)) + " " + Check.outcome(() -> x.splitPayment(milestone,
+                1000)) + " "
             + Check.outcome(() -> x.shareFor(milestone, 1)) + " " + Check.outcome(() -> x.shareFor(milestone, 40));
     }
 

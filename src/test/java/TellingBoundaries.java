@@ -49,7 +49,8 @@ final class TellingBoundaries {
     }
 
     private static void feed() {
-        Document.says(2, "Appends 20 bytes to the buffer: the four bytes of a, then of b, c, d and e, the most significant byte of each first.");
+        Document.says(2, "Appends 20 bytes to the buffer: the four bytes of a, then of b, c, d and e, the most significant"
+            + " byte of each first.");
         for (int at = 0; at < 20; at++) {
             int[] words = {BLANK, BLANK, BLANK, BLANK, BLANK};
             words[at / 4] += ('?' - ' ') << 8 * (3 - at % 4);
@@ -84,7 +85,8 @@ final class TellingBoundaries {
     }
 
     private static void load() {
-        Document.says(3, "Reads a text from the first bytes of the buffer and empties the buffer, also if the text is not legal.");
+        Document.says(3, "Reads a text from the first bytes of the buffer and empties the buffer, also if the text is not"
+            + " legal.");
         EscrowDesk x = new EscrowDesk();
         Desks.feed(x, "deposit 5;deposit 7;");
         Check.due("the first ten bytes", 0, x.load(10));
@@ -96,6 +98,10 @@ final class TellingBoundaries {
         Check.due("it counts from 0", 20, x.feed(BLANK, BLANK, BLANK, BLANK, BLANK));
         Check.due("nothing of the earlier texts is read", 0, x.load(20));
         Check.due("no deposit", 0, x.deposited());
+        anew("deposit 5; milestone a 9 1 when proof q or approved; milestone b 7 1 when day 3;");
+        anew("milestone b 7 1 when approved; milestone c 7 1 when proof r; milestone d 7 1 when always; milestone e 7 1 when"
+            + " sum 1;");
+        anew("");
         Document.says(3, "- `length`: number of bytes of the text, 0 to the number of bytes in the buffer");
         Desks.feed(x, "deposit 5;deposit 7;");
         Check.due("0 bytes", 0, x.load(0));
@@ -116,7 +122,8 @@ final class TellingBoundaries {
         x.pass(3);
         x.write(4);
         String before = Story.now(x);
-        Check.due("a bad text", EscrowDesk.BAD_TEXT, Desks.load(x, "rate 9 360; grace 9; deposit 5; milestone q 1 1 when proof q; ?"));
+        Check.due("a bad text", EscrowDesk.BAD_TEXT, Desks.load(x, "rate 9 360; grace 9; deposit 5; milestone q 1 1 when proof"
+            + " q; ?"));
         Check.due("all stays", before, Story.now(x));
         Check.due("one edit can be undone", 0, x.undo());
         Document.says(3, "Throws `IllegalArgumentException` if length is out of range (the buffer keeps its bytes)");
@@ -128,6 +135,25 @@ final class TellingBoundaries {
         Check.noArgument("load(41)", () -> x.load(41));
         Check.due("the bytes are as they were", 0, x.load(40));
         Check.due("both deposits", 12, x.deposited());
+    }
+
+    /** A desk with much behind it is by a legal text as a new one is by the same text. */
+    private static void anew(String text) {
+        EscrowDesk x = Desks.of("rate 3000 360; fee 2000; grace 2; deposit 9000; milestone a 100 1 when proof p; milestone b"
+            + " 50 1 when always;"
+            + "milestone c 70 1 when approved; milestone d 80 1 when day 100; milestone e 60 1 when proof q;");
+        x.approve(0);
+        x.approve(1);
+        x.pass(31);
+        x.submit(0);
+        x.submit(1);
+        x.payInterest(1);
+        x.dispute(0);
+        x.dispute(2);
+        x.resolve(2, 500);
+        x.cancel(3);
+        Check.due(text, true, Desks.load(x, text) >= 0);
+        Check.due("as a new one: " + text, Story.whole(Desks.of(text)), Story.whole(x));
     }
 
     private static void errors() {
@@ -163,7 +189,8 @@ final class TellingBoundaries {
     }
 
     private static void sums() {
-        EscrowDesk x = Desks.of("rate 3000 360; fee 1000; deposit 1000; milestone a 100 1 when day 2; milestone b 50 1 when approved; deposit 24;");
+        EscrowDesk x = Desks.of("rate 3000 360; fee 1000; deposit 1000; milestone a 100 1 when day 2; milestone b 50 1 when"
+            + " approved; deposit 24;");
         Document.says(6, "Returns the present day.");
         Check.due("at first", 0, x.day());
         x.pass(1);
@@ -201,7 +228,8 @@ final class TellingBoundaries {
         x.undo();
         Check.due("undone", 40, x.refunded());
         for (EscrowDesk fresh : new EscrowDesk[] {new EscrowDesk(), Desks.of("milestone a 5 1 when always;")}) {
-            Check.due("nothing at first", 0, fresh.deposited() + fresh.principal() + fresh.available() + fresh.received() + fresh.fees()
+            Check.due("nothing at first", 0,
+                fresh.deposited() + fresh.principal() + fresh.available() + fresh.received() + fresh.fees()
                 + fresh.refunded() + fresh.interestPot() + fresh.credited() + fresh.accruedParts());
         }
     }
@@ -302,7 +330,8 @@ final class TellingBoundaries {
     }
 
     private static void dayByClock() {
-        Document.says(23, "Finds the first day from the present one to 400 days later on which the condition of a milestone would hold if nothing but");
+        Document.says(23, "Finds the first day from the present one to 400 days later on which the condition of a milestone"
+            + " would hold if nothing but");
         for (int named : new int[] {0, 1, 399, 400, 401, 402, 999}) {
             EscrowDesk x = Desks.of("milestone a 1 1 when day " + named + ";");
             Check.due("day " + named + " on day 0", named <= 400 ? named : NONE, x.dayByClock(0));
@@ -318,8 +347,13 @@ final class TellingBoundaries {
         Check.due("day 998 on day 598", 998, late.dayByClock(1));
         late.pass(1);
         Check.due("day 999 on day 599", 999, late.dayByClock(0));
-        EscrowDesk y = Desks.of("deposit 9; milestone a 1 1 when day 5 and not day 6; milestone b 1 1 when done a; milestone c 1 1 when sum 1 and day 3;");
+        EscrowDesk y = Desks.of("deposit 9; milestone a 1 1 when day 5 and not day 6; milestone b 1 1 when done a; milestone c"
+            + " 1 1 when sum 1 and day 3;");
         Check.due("the first of several days", 5, y.dayByClock(0));
+        EscrowDesk second = Desks.of("milestone a 1 1 when day 5 and approved or day 9 and approved or day 12;");
+        Check.due("the third of the days that are named", 12, second.dayByClock(0));
+        second.pass(5);
+        Check.due("also from the first of them", 12, second.dayByClock(0));
         Check.due("nothing is paid by the clock", NONE, y.dayByClock(1));
         Check.due("no payments by the clock", NONE, y.dayByClock(2));
         y.pass(5);
@@ -343,27 +377,36 @@ final class TellingBoundaries {
     }
 
     private static void missingProofs() {
-        Document.says(24, "Finds the smallest set of proofs that were not submitted yet and with which, if they were submitted, too,");
-        EscrowDesk x = Desks.of("milestone z 1 1 when proof a or proof b or proof c or proof d or proof e or proof f or proof g or proof h;"
+        Document.says(24, "Finds the smallest set of proofs that were not submitted yet and with which, if they were"
+            + " submitted, too,");
+        EscrowDesk x = Desks.of("milestone z 1 1 when proof a or proof b or proof c or proof d or proof e or proof f or proof"
+            + " g or proof h;"
             + "milestone a 1 1 when proof a and proof b and proof c or proof g and proof h;"
             + "milestone b 1 1 when proof h and proof g and proof f and proof e and proof d and proof c and proof b and proof a;"
             + "milestone c 1 1 when proof a and day 1; milestone d 1 1 when proof a and not proof b;");
+        Check.due("all eight", 255, x.missingProofs(2));
         Check.due("two rather than three", 192, x.missingProofs(1));
         x.submit(0);
         Check.due("two are as few as two, and 6 is smaller than 192", 6, x.missingProofs(1));
         x.submit(7);
         Check.due("one rather than two", 64, x.missingProofs(1));
         Check.due("all that are left of eight", 126, x.missingProofs(2));
+        x.undo();
+        Check.due("seven of eight", 254, x.missingProofs(2));
+        x.submit(7);
         Check.due("now, not a day later", NONE, x.missingProofs(3));
         x.submit(1);
         Check.due("a submitted one cannot be taken back", NONE, x.missingProofs(4));
-        Document.says(24, "of several sets of the same size the one with the smallest number, where proof k counts 2 to the power k.");
-        EscrowDesk y = Desks.of("milestone a 1 1 when proof c or proof b or proof a; milestone b 1 1 when proof a and proof b or proof c and proof b or proof c and proof a;"
+        Document.says(24, "of several sets of the same size the one with the smallest number, where proof k counts 2 to the"
+            + " power k.");
+        EscrowDesk y = Desks.of("milestone a 1 1 when proof c or proof b or proof a; milestone b 1 1 when proof a and proof b"
+            + " or proof c and proof b or proof c and proof a;"
             + "milestone c 1 1 when proof h or proof g or proof f or proof e or proof d;");
         Check.due("c was named first", 1, y.missingProofs(0));
         Check.due("c and b", 3, y.missingProofs(1));
         Check.due("h", 8, y.missingProofs(2));
-        Check.due("the last of eight", 128, Desks.of("milestone z 1 1 when proof a or proof b or proof c or proof d or proof e or proof f or proof g;"
+        Check.due("the last of eight", 128, Desks.of("milestone z 1 1 when proof a or proof b or proof c or proof d or proof e"
+            + " or proof f or proof g;"
             + "milestone a 1 1 when proof h;").missingProofs(1));
         Document.says(24, "Returns that number, 0 if the condition holds already;");
         Check.due("always", 0, Desks.of("milestone a 1 1 when always or proof a;").missingProofs(0));
@@ -383,7 +426,8 @@ final class TellingBoundaries {
 
     private static void counts() {
         Document.says(25, "Returns the number of closed milestones.");
-        EscrowDesk x = Desks.of("grace 60; deposit 99; milestone a 3 1 when always; milestone b 5 1 when approved; milestone c 7 1 when approved;");
+        EscrowDesk x = Desks.of("grace 60; deposit 99; milestone a 3 1 when always; milestone b 5 1 when approved; milestone c"
+            + " 7 1 when approved;");
         Check.due("open ones", 0, x.closedCount());
         x.pass(1);
         Check.due("a due one", 0, x.closedCount());
@@ -398,7 +442,8 @@ final class TellingBoundaries {
         x.pay(0, 1);
         Check.due("a paid one", 3, x.closedCount());
         Check.due("none of none", 0, new EscrowDesk().closedCount());
-        Document.says(26, "Returns the sum of the paid amounts of all milestones, times 1000, divided by the sum of their amounts, rounded down;");
+        Document.says(26, "Returns the sum of the paid amounts of all milestones, times 1000, divided by the sum of their"
+            + " amounts, rounded down;");
         Check.due("8 of 15", 533, x.progress());
         EscrowDesk y = Desks.of("deposit 1001; milestone a 1000 1 when approved; milestone b 1 1 when approved;");
         Check.due("0 of 1001", 0, y.progress());
@@ -410,6 +455,10 @@ final class TellingBoundaries {
         Check.due("1000 of 1001", 999, y.progress());
         y.pay(1, 1);
         Check.due("1001 of 1001", 1000, y.progress());
+        EscrowDesk least = Desks.of("deposit 1; milestone a 1 1 when approved;");
+        Check.due("0 of 1", 0, least.progress());
+        least.pay(0, 1);
+        Check.due("1 of 1", 1000, least.progress());
         Document.says(26, "0 without milestones.");
         Check.due("a new object", 0, new EscrowDesk().progress());
         Check.due("deposits alone", 0, Desks.of("deposit 5;").progress());
@@ -456,7 +505,8 @@ final class TellingBoundaries {
     private static void proofs() {
         Document.says(28, "Returns the number of different proofs in the text.");
         Check.due("none", 0, new EscrowDesk().proofs());
-        Check.due("one, three times", 1, Desks.of("milestone a 1 1 when proof p and proof p; milestone b 1 1 when proof p;").proofs());
+        Check.due("one, three times", 1, Desks.of("milestone a 1 1 when proof p and proof p; milestone b 1 1 when proof"
+            + " p;").proofs());
         EscrowDesk x = Desks.of("milestone a 1 1 when proof p or proof pp or proof q and proof abcdefghi or proof p;");
         Check.due("four", 4, x.proofs());
         Document.says(29, "Tells whether a proof was submitted.");
@@ -497,8 +547,10 @@ final class TellingBoundaries {
     }
 
     private static void wouldHold() {
-        Document.says(31, "Tells whether the condition of a milestone would hold now if all milestones of a set were paid (and all others were as they are;");
-        EscrowDesk x = Desks.of("grace 60; deposit 99; milestone a 9 1 when always; milestone b 9 1 when done a; milestone c 9 1 when done a and not done b;"
+        Document.says(31, "Tells whether the condition of a milestone would hold now if all milestones of a set were paid (and"
+            + " all others were as they are;");
+        EscrowDesk x = Desks.of("grace 60; deposit 99; milestone a 9 1 when always; milestone b 9 1 when done a; milestone c 9"
+            + " 1 when done a and not done b;"
             + "milestone d 9 1 when done a and day 5 or sum 9;");
         Check.due("none", false, x.wouldHold(1, 0));
         Check.due("a", true, x.wouldHold(1, 1));
@@ -517,7 +569,8 @@ final class TellingBoundaries {
         Check.due("a as if it were paid", true, cancelled.wouldHold(1, 1));
         Check.due("it stays cancelled", 5, cancelled.state(0));
         Document.says(31, "the payments so far stay as they are).");
-        EscrowDesk y = Desks.of("deposit 99; milestone a 9 1 when always; milestone b 9 1 when sum 9; milestone c 9 1 when sum 0;");
+        EscrowDesk y = Desks.of("deposit 99; milestone a 9 1 when always; milestone b 9 1 when sum 9; milestone c 9 1 when sum"
+            + " 0;");
         Check.due("no payment by the set", false, y.wouldHold(1, 7));
         Check.due("sum 0 anyway", true, y.wouldHold(2, 7));
         y.pay(0, 9);
@@ -540,7 +593,8 @@ final class TellingBoundaries {
     }
 
     private static void dueAt() {
-        EscrowDesk x = Desks.of("grace 60; milestone a 1 9 when day 1; milestone b 1 5 when day 2; milestone c 1 9 when day 1; milestone d 1 5 when day 1;"
+        EscrowDesk x = Desks.of("grace 60; milestone a 1 9 when day 1; milestone b 1 5 when day 2; milestone c 1 9 when day 1;"
+            + " milestone d 1 5 when day 1;"
             + "milestone e 1 0 when day 3; milestone f 1 99 when approved;");
         Document.says(33, "NONE if no milestone is due.");
         Check.due("none of six", NONE, x.nextDue());
@@ -564,7 +618,8 @@ final class TellingBoundaries {
         Check.due("now four are due", 2, x.dueAt(3));
         Check.noIndex("no fifth", () -> x.dueAt(4));
         Check.noIndex("no first of none", () -> new EscrowDesk().dueAt(0));
-        Document.says(33, "Returns the number of the due milestone that would be paid first if all due milestones were paid now, by priority and number.");
+        Document.says(33, "Returns the number of the due milestone that would be paid first if all due milestones were paid"
+            + " now, by priority and number.");
         Check.due("without the disputed one", 1, x.nextDue());
         x.cancel(1);
         Check.due("without a cancelled one", 3, x.nextDue());
@@ -579,7 +634,8 @@ final class TellingBoundaries {
     }
 
     private static void shortage() {
-        Document.says(34, "Returns the sum of the remaining amounts of all milestones, minus the principal, if that is greater than 0;");
+        Document.says(34, "Returns the sum of the remaining amounts of all milestones, minus the principal, if that is greater"
+            + " than 0;");
         EscrowDesk x = Desks.of("deposit 89; milestone a 40 1 when approved; milestone b 50 1 when approved;");
         Check.due("90 without 89", 1, x.shortage());
         x.dispute(0);
@@ -602,8 +658,10 @@ final class TellingBoundaries {
     }
 
     private static void write() {
-        Document.says(56, "Writes a milestone to the output, in place of what the output has: its name, a space, the word for its state");
-        EscrowDesk x = Desks.of("deposit 99999; deposit 99999; grace 60; milestone z 99999 1 when day 1; milestone abcdefghi 1 1 when approved;");
+        Document.says(56, "Writes a milestone to the output, in place of what the output has: its name, a space, the word for"
+            + " its state");
+        EscrowDesk x = Desks.of("deposit 99999; deposit 99999; grace 60; milestone z 99999 1 when day 1; milestone abcdefghi 1"
+            + " 1 when approved;");
         Check.due("open", "z open 0/99999", Desks.line(x, 0));
         Check.due("the greatest name, the smallest amount", "abcdefghi open 0/1", Desks.line(x, 1));
         x.pay(1, 1);
@@ -707,7 +765,8 @@ final class TellingBoundaries {
 
     private static void totals() {
         Document.says(60, "Returns the sum of the amounts of all kept entries of a day and a kind.");
-        EscrowDesk x = Desks.of("rate 3000 360; deposit 1000; milestone a 9 1 when approved; milestone b 9 1 when approved; deposit 1;");
+        EscrowDesk x = Desks.of("rate 3000 360; deposit 1000; milestone a 9 1 when approved; milestone b 9 1 when approved;"
+            + " deposit 1;");
         x.pass(29);
         x.pay(0, 2);
         x.pass(1);
@@ -741,7 +800,8 @@ final class TellingBoundaries {
     }
 
     private static void busiestDay() {
-        Document.says(61, "Returns the day with the greatest sum of the amounts of its kept payments (kind 1), the earliest of several;");
+        Document.says(61, "Returns the day with the greatest sum of the amounts of its kept payments (kind 1), the earliest of"
+            + " several;");
         EscrowDesk x = Desks.of("deposit 1000; milestone a 500 1 when approved; milestone b 9 1 when approved;");
         x.pay(0, 5);
         Check.due("day 0", 0, x.busiestDay());
@@ -767,6 +827,16 @@ final class TellingBoundaries {
         x.deposit(1);
         x.deposit(1);
         Check.due("now 4 of its 6 are not: day 2", 2, x.busiestDay());
+        EscrowDesk one = Desks.of("deposit 1000; milestone a 500 1 when approved;");
+        one.pass(7);
+        one.pay(0, 1);
+        Check.due("a payment of 1", 7, one.busiestDay());
+        for (int deposits = 0; deposits < 59; deposits++) {
+            one.deposit(1);
+        }
+        Check.due("it is the oldest of 60 entries", 7, one.busiestDay());
+        one.deposit(1);
+        Check.due("it is not kept", NONE, one.busiestDay());
         Document.says(61, "NONE if there are none.");
         Check.due("a new object", NONE, new EscrowDesk().busiestDay());
         Check.due("a deposit", NONE, Desks.of("deposit 5;").busiestDay());

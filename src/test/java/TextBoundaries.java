@@ -45,7 +45,8 @@ final class TextBoundaries {
     }
 
     private static void tokenSizes() {
-        Document.says("TEXT", "Tokens are words (1 to 9 lower-case letters), numbers (1 to 5 digits) and the characters ( ) and ;.");
+        Document.says("TEXT", "Tokens are words (1 to 9 lower-case letters), numbers (1 to 5 digits) and the characters ( )"
+            + " and ;.");
         for (String name : new String[] {"a", "z", "abcdefghi", "zzzzzzzzz"}) {
             Texts.legal("milestone " + name + " 10 1 when proof " + name + "; milestone m 10 1 when done " + name + ";", 2);
             EscrowDesk x = Desks.of("milestone " + name + " 10 1 when proof " + name + ";");
@@ -90,7 +91,8 @@ final class TextBoundaries {
     }
 
     private static void blanks() {
-        Document.says("TEXT", "Spaces (32) and line feeds (10) may stand before the first token, between tokens and behind the last token.");
+        Document.says("TEXT", "Spaces (32) and line feeds (10) may stand before the first token, between tokens and behind the"
+            + " last token.");
         String[] tokens = {"milestone", "a", "10", "1", "when", "(", "not", "day", "5", ")", "or", "approved", ";"};
         for (String blank : new String[] {" ", "\n", "  ", "\n\n", " \n \n"}) {
             Texts.legal(blank, 0);
@@ -135,7 +137,8 @@ final class TextBoundaries {
 
     private static void statements() {
         Document.says("TEXT", "The text is a sequence of statements;");
-        Texts.legal("grace 1; milestone a 1 1 when always; fee 1; deposit 1; rate 1 360; deposit 1; milestone b 1 1 when always;", 2);
+        Texts.legal("grace 1; milestone a 1 1 when always; fee 1; deposit 1; rate 1 360; deposit 1; milestone b 1 1 when"
+            + " always;", 2);
         Texts.error("deposit 1;;", 2, 10);
         Texts.error("; deposit 1;", 2, 0);
         Texts.error("deposit 1; 5", 2, 11);
@@ -147,6 +150,12 @@ final class TextBoundaries {
         Texts.legal(M + "always;", 1);
         Texts.legal(M + "always" + " or always".repeat(66) + ";", 1);
         Texts.legal(M + "always" + " and always".repeat(60) + ";", 1);
+        EscrowDesk x = new EscrowDesk();
+        for (int times = 0; times < 20; times++) {
+            String wide = "milestone a 1 1 when day 9" + "or day9".repeat(96) + ";";
+            Check.due("as many as fit in, time and again", 1, Desks.load(x, wide));
+        }
+        Check.due("all of them count", 9, x.dayByClock(0));
         Document.says("TEXT", "statement = \"rate\" RATE BASIS \";\" |");
         Texts.legal("rate 1 360; fee 1; grace 1; deposit 1; milestone a 1 1 when always;", 1);
         spoilEachPlace("rate", "1", "360", ";");
@@ -302,17 +311,34 @@ final class TextBoundaries {
         x.pass(120);
         Check.due("no parts", 0, x.accruedParts());
         Check.due("the rate", 0, x.setRate(1, 365));
+        Check.due("behind other texts", 0, behindOtherTexts("deposit 5;").setRate(1, 365));
         Check.due("rate 0 is the same", 0, Desks.of("rate 0 360;").setRate(1, 365));
         Check.due("rate 1 is not", 1, Desks.of("rate 1 360;").setRate(1, 365));
         Document.says("TEXT", "without a fee statement the fee is 0;");
         EscrowDesk y = Desks.of("deposit 99999; milestone a 99999 1 when always;");
         Check.due("no fee", 0, y.pay(0, 99999));
         Check.due("no fee, all for the seller", 99999, y.received());
+        EscrowDesk later = behindOtherTexts("deposit 10000; milestone a 10000 1 when always;");
+        Check.due("no fee behind other texts", 0, later.pay(0, 10000));
         Check.due("fee 1 is not the same", 9, Desks.of("fee 1; deposit 99999; milestone a 99999 1 when always;").pay(0, 99999));
         Document.says("TEXT", "without a grace statement the grace period is 0.");
         Check.due("the grace period", 0, Desks.of("deposit 5;").setGrace(1));
+        Check.due("behind other texts", 0, behindOtherTexts("deposit 5;").setGrace(1));
         Check.due("paid on the due day", 5, Desks.of("deposit 5; milestone a 5 1 when always;").pass(1));
         Check.due("grace 1 is not the same", 0, Desks.of("grace 1; deposit 5; milestone a 5 1 when always;").pass(1));
+    }
+
+    /** What earlier texts said does not count, whether they were legal or not. */
+    private static EscrowDesk behindOtherTexts(String text) {
+        EscrowDesk x = new EscrowDesk();
+        String other = "rate 3000 360; fee 2000; grace 60; deposit 7; milestone b 7 1 when proof p and day 5;";
+        for (int times = 0; times < 2; times++) {
+            Check.due(other, 1, Desks.load(x, other));
+            Check.due(other + "?", EscrowDesk.BAD_TEXT, Desks.load(x, other + "?"));
+        }
+        Check.due(text, true, Desks.load(x, text) >= 0);
+        Check.due("no proofs", 0, x.proofs());
+        return x;
     }
 
     private static void repeatedStatements() {
@@ -336,7 +362,8 @@ final class TextBoundaries {
     }
 
     private static void counts() {
-        Document.says("TEXT", "There are at most 6 deposits and at most 10 milestones, which are numbered from 0 in the order of the text;");
+        Document.says("TEXT", "There are at most 6 deposits and at most 10 milestones, which are numbered from 0 in the order"
+            + " of the text;");
         String deposits = "deposit 1;deposit 20;deposit 300;deposit 4000;deposit 50000;deposit 60000;";
         Check.due("six deposits", 114321, Desks.of(deposits).deposited());
         Texts.error(deposits + "deposit 1;", 5, deposits.length());
@@ -363,7 +390,8 @@ final class TextBoundaries {
     }
 
     private static void proofCounts() {
-        Document.says("TEXT", "and at most 8 different PROOF words, which are numbered from 0 in the order of their first occurrence.");
+        Document.says("TEXT", "and at most 8 different PROOF words, which are numbered from 0 in the order of their first"
+            + " occurrence.");
         String eight = M + "proof h and proof b or proof h or proof zz or proof z or proof a and proof c and proof d or proof e";
         Texts.legal(eight + ";", 1);
         Texts.legal(eight + " or proof z or proof h or proof e;", 1);
@@ -384,7 +412,8 @@ final class TextBoundaries {
     }
 
     private static void openWithinEachOther() {
-        Document.says("TEXT", "At most 8 \"not\" and \"(\" may be open within each other (a \"not\" is open until its fact ends, a \"(\" until its \")\").");
+        Document.says("TEXT", "At most 8 \"not\" and \"(\" may be open within each other (a \"not\" is open until its fact"
+            + " ends, a \"(\" until its \")\").");
         Texts.legal(M + "(".repeat(8) + "always" + ")".repeat(8) + ";", 1);
         Texts.error(M + "(".repeat(9) + "always" + ")".repeat(9) + ";", 5, AT + 8);
         Texts.legal(M + "not ".repeat(8) + "always;", 1);
@@ -395,7 +424,8 @@ final class TextBoundaries {
         Texts.error(M + "(".repeat(8) + "not always" + ")".repeat(8) + ";", 5, AT + 8);
         Texts.error(M + "not ".repeat(8) + "(always);", 5, AT + 32);
         // What is not open any more does not count.
-        Texts.legal(M + "not ".repeat(8) + "always and " + "not ".repeat(8) + "always or " + "(".repeat(8) + "always" + ")".repeat(8) + ";", 1);
+        Texts.legal(M + "not ".repeat(8) + "always and " + "not ".repeat(8) + "always"
+            + " or " + "(".repeat(8) + "always" + ")".repeat(8) + ";", 1);
         Texts.legal(M + "(".repeat(7) + "not always and not always or (always) and (always)" + ")".repeat(7) + ";", 1);
         Texts.error(M + "(".repeat(7) + "not always and not not always" + ")".repeat(7) + ";", 5, AT + 7 + 19);
         // Behind ) ) ) the three inner nots have ended with their facts: one not and one ( are open.
@@ -409,7 +439,8 @@ final class TextBoundaries {
     }
 
     private static void firstError() {
-        Document.says("TEXT", "The error of a text is its first token, from left to right, that cannot be continued to a legal text;");
+        Document.says("TEXT", "The error of a text is its first token, from left to right, that cannot be continued to a legal"
+            + " text;");
         Texts.error("deposit 0; fee 2001; ?", 3, 8);
         Texts.error("deposit 1; fee 2001; ?", 3, 15);
         Texts.error("deposit 1; fee 2000; ?", 1, 21);
@@ -429,7 +460,8 @@ final class TextBoundaries {
     private static void endOfText() {
         Document.says("TEXT", "if the text ends too early, the error is at the end and its position is the length of the text.");
         String[] cut = {"rate", "rate 1", "rate 1 360", "fee", "fee 1", "grace", "grace 1", "deposit", "deposit 1", "milestone",
-            "milestone a", "milestone a 1", "milestone a 1 1", "milestone a 1 1 when", M + "not", M + "(", M + "(always", M + "day",
+            "milestone a", "milestone a 1", "milestone a 1 1", "milestone a 1 1 when", M + "not", M + "(", M + "(always",
+                M + "day",
             M + "proof", M + "done", M + "sum", M + "always", M + "day 5", M + "always or", M + "always and", M + "proof p"};
         for (String text : cut) {
             Texts.error(text, 2, text.length());
@@ -450,7 +482,8 @@ final class TextBoundaries {
         Texts.error("?", 1, 0);
         Texts.error("deposit 123456;", 1, 8);
         Texts.error("milestone abcdefghij", 1, 10);
-        Document.says("TEXT", "2 another token was expected (also a word in quotes where a NAME, PROOF or MILESTONE must stand);");
+        Document.says("TEXT", "2 another token was expected (also a word in quotes where a NAME, PROOF or MILESTONE must"
+            + " stand);");
         Texts.error("deposit x;", 2, 8);
         Texts.error("milestone when", 2, 10);
         Texts.error(M + "proof when", 2, AT + 6);
@@ -462,7 +495,8 @@ final class TextBoundaries {
         Document.says("TEXT", "4 a NAME that an earlier milestone has, or a MILESTONE that no earlier milestone is;");
         Texts.error(M + "always; milestone a", 4, AT + 18);
         Texts.error(M + "always; milestone b 1 1 when done b", 4, AT + 34);
-        Document.says("TEXT", "5 too many: the word deposit or milestone of a statement too many, a ninth PROOF word, the ninth open \"not\" or \"(\".");
+        Document.says("TEXT", "5 too many: the word deposit or milestone of a statement too many, a ninth PROOF word, the"
+            + " ninth open \"not\" or \"(\".");
         String six = "deposit 1;".repeat(6);
         Texts.error(six + "deposit", 5, 60);
         String ten = "";

@@ -16,7 +16,8 @@ final class TrialBoundaries {
 
     private static void paymentsAndCredits() {
         Document.says(35, "Returns the sum of all payments (fees included) after so many more days.");
-        EscrowDesk x = Desks.of("fee 2000; deposit 100; milestone a 30 1 when day 3; milestone b 90 1 when done a; milestone c 5 1 when approved;");
+        EscrowDesk x = Desks.of("fee 2000; deposit 100; milestone a 30 1 when day 3; milestone b 90 1 when done a; milestone c"
+            + " 5 1 when approved;");
         Check.due("a day before", 0, x.paymentsAfter(2));
         Check.due("on the day", 30, x.paymentsAfter(3));
         Check.due("all the money", 100, x.paymentsAfter(4));
@@ -45,13 +46,15 @@ final class TrialBoundaries {
     }
 
     private static void daysUntilClosed() {
-        String text = "grace 1; deposit 100; milestone a 30 1 when day 119; milestone b 30 1 when day 120; milestone c 30 1 when always;"
+        String text = "grace 1; deposit 100; milestone a 30 1 when day 119; milestone b 30 1 when day 120; milestone c 30 1"
+            + " when always;"
             + "milestone d 99 9 when always;";
         Document.says(38, "Returns how many days must pass until a milestone is closed.");
         Check.due("due on day 1, paid on day 2", 2, Desks.of(text).daysUntilClosed(2));
         Check.due("without a grace period", 1, Desks.of(text + "grace 0;").daysUntilClosed(2));
         Document.says(38, "Returns the number of days, 0 to 120;");
-        EscrowDesk x = Desks.of("deposit 100; milestone a 30 1 when day 119; milestone b 30 1 when day 120; milestone c 30 1 when day 121; milestone d 5 1 when always;");
+        EscrowDesk x = Desks.of("deposit 100; milestone a 30 1 when day 119; milestone b 30 1 when day 120; milestone c 30 1"
+            + " when day 121; milestone d 5 1 when always;");
         Check.due("119", 119, x.daysUntilClosed(0));
         Check.due("120", 120, x.daysUntilClosed(1));
         x.pay(3, 5);
@@ -62,7 +65,8 @@ final class TrialBoundaries {
         x.resolve(0, 0);
         Check.due("0, settled already", 0, x.daysUntilClosed(0));
         Document.says(38, "NONE if it is not closed after 120 days.");
-        EscrowDesk y = Desks.of("deposit 101; milestone a 30 1 when day 121; milestone b 1 1 when approved; milestone c 71 9 when day 119;");
+        EscrowDesk y = Desks.of("deposit 101; milestone a 30 1 when day 121; milestone b 1 1 when approved; milestone c 71 9"
+            + " when day 119;");
         Check.due("121", NONE, y.daysUntilClosed(0));
         Check.due("never", NONE, y.daysUntilClosed(1));
         y.pass(1);
@@ -107,7 +111,8 @@ final class TrialBoundaries {
 
     /** Milestone k is in the state k. */
     static EscrowDesk inAllStates() {
-        EscrowDesk x = Desks.of("grace 60; deposit 100; milestone a 10 1 when approved; milestone b 10 1 when always; milestone c 10 1 when always;"
+        EscrowDesk x = Desks.of("grace 60; deposit 100; milestone a 10 1 when approved; milestone b 10 1 when always;"
+            + " milestone c 10 1 when always;"
             + "milestone d 10 1 when always; milestone e 10 1 when always; milestone f 10 1 when always;");
         x.pass(1);
         x.dispute(2);
@@ -122,7 +127,8 @@ final class TrialBoundaries {
     }
 
     private static void shareFor() {
-        Document.says(40, "Returns the smallest share with which resolve() would give the seller at least an amount, without the fee.");
+        Document.says(40, "Returns the smallest share with which resolve() would give the seller at least an amount, without"
+            + " the fee.");
         for (int fee : new int[] {0, 1, 333, 2000}) {
             EscrowDesk x = Desks.of("fee " + fee + "; deposit 300; milestone a 300 1 when approved;");
             x.dispute(0);
@@ -174,7 +180,8 @@ final class TrialBoundaries {
     }
 
     private static void shortDay() {
-        Document.says(41, "Finds the first day on which money is short: a day after which a due milestone whose due day plus the grace period");
+        Document.says(41, "Finds the first day on which money is short: a day after which a due milestone whose due day plus"
+            + " the grace period");
         EscrowDesk x = Desks.of("grace 2; deposit 9; milestone a 10 1 when day 3;");
         Check.due("due on day 3, short on day 5", 5, x.shortDay(120));
         x.deposit(1);
@@ -191,7 +198,8 @@ final class TrialBoundaries {
         x.withdraw(0);
         x.cancel(0);
         Check.due("cancelled", NONE, x.shortDay(120));
-        EscrowDesk two = Desks.of("deposit 10; milestone a 10 5 when day 4; milestone b 10 1 when day 6; milestone c 10 1 when approved;");
+        EscrowDesk two = Desks.of("deposit 10; milestone a 10 5 when day 4; milestone b 10 1 when day 6; milestone c 10 1 when"
+            + " approved;");
         Check.due("the second one is short", 6, two.shortDay(120));
         two.dispute(2);
         Check.due("by what is frozen the first one, too", 4, two.shortDay(120));
@@ -219,7 +227,8 @@ final class TrialBoundaries {
 
     /** A trial tells what the desk itself tells when the days have passed, and leaves no trace. */
     private static void asIfTheDaysHadPassed() {
-        String text = "rate 3000 360; fee 700; grace 3; deposit 900; milestone a 300 5 when day 7; milestone b 400 1 when done a and day 40;"
+        String text = "rate 3000 360; fee 700; grace 3; deposit 900; milestone a 300 5 when day 7; milestone b 400 1 when done"
+            + " a and day 40;"
             + "milestone c 500 9 when sum 600; milestone d 50 1 when not day 2; milestone e 60 1 when proof p or day 119;";
         for (int days = 1; days <= 120; days++) {
             EscrowDesk x = Desks.of(text);
