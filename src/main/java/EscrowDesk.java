@@ -479,11 +479,11 @@ public final class EscrowDesk {
     // ---- ledger
 
     public int entries() {
-        return account.ledger.keptCount();
+        return account.ledger.kept;
     }
 
     public int entry(int entry, int what) throws IndexOutOfBoundsException, IllegalArgumentException {
-        needIndex(entry, account.ledger.keptCount());
+        needIndex(entry, account.ledger.kept);
         needRange(what, 0, Ledger.PARTS - 1);
         return account.ledger.partOfEntry(entry, what);
     }
@@ -1398,42 +1398,42 @@ public final class EscrowDesk {
         private static final int MOST_KEPT = 60;
 
         private final int[] ring = new int[MOST_KEPT * PARTS];
-        private int entered;
+        private int next;
+        private int kept;
 
         void clear() {
-            entered = 0;
+            next = 0;
+            kept = 0;
         }
 
         void copyFrom(Ledger other) {
             System.arraycopy(other.ring, 0, ring, 0, ring.length);
-            entered = other.entered;
+            next = other.next;
+            kept = other.kept;
         }
 
         void enter(int kind, int day, int amount, int milestone) {
             if (amount <= 0) {
                 return;
             }
-            int at = entered % MOST_KEPT * PARTS;
+            int at = next * PARTS;
             ring[at + KIND] = kind;
             ring[at + DAY] = day;
             ring[at + AMOUNT] = amount;
             ring[at + MILESTONE] = milestone;
-            entered++;
-        }
-
-        int keptCount() {
-            return Math.min(entered, MOST_KEPT);
+            // Places, not a count of all entries: however many are entered, none is ever outside the ring.
+            next = (next + 1) % MOST_KEPT;
+            kept = Math.min(kept + 1, MOST_KEPT);
         }
 
         int partOfEntry(int entry, int what) {
-            int oldest = entered - keptCount();
-            return ring[(oldest + entry) % MOST_KEPT * PARTS + what];
+            int place = (next + MOST_KEPT - kept + entry) % MOST_KEPT;
+            return ring[place * PARTS + what];
         }
 
         int sumOn(int day, int kind) {
             int sum = 0;
-            int count = keptCount();
-            for (int entry = 0; entry < count; entry++) {
+            for (int entry = 0; entry < kept; entry++) {
                 if (partOfEntry(entry, DAY) == day && partOfEntry(entry, KIND) == kind) {
                     sum += partOfEntry(entry, AMOUNT);
                 }
@@ -1446,8 +1446,7 @@ public final class EscrowDesk {
             int most = 0;
             int sumDay = NONE;
             int sum = 0;
-            int count = keptCount();
-            for (int entry = 0; entry < count; entry++) {
+            for (int entry = 0; entry < kept; entry++) {
                 if (partOfEntry(entry, KIND) == PAYMENT) {
                     int day = partOfEntry(entry, DAY);
                     // Entries stand in the order of their days, so the payments of a day are met together.
