@@ -32,7 +32,7 @@ final class Document {
     private Document() {
     }
 
-    /** Sections are TEXT, MONEY and so on, and the numbers of the promises. */
+    /** Sections are WHAT IT IS, TEXT, MONEY and so on, and the numbers of the promises. */
     static void says(String section, String quote) {
         settle();
         present = find(section, quote);
@@ -83,17 +83,20 @@ final class Document {
     private static List<Clause> read() {
         List<Clause> clauses = new ArrayList<>();
         String section = "";
-        for (String line : description().split("\n")) {
+        for (String line : whatIsPromised().split("\n")) {
             Matcher promise = PROMISE.matcher(line);
             if (promise.matches()) {
                 section = promise.group(1);
+            } else if (line.equals("## What it is")) {
+                section = "WHAT IT IS";
             } else if (line.matches("[A-Z ]{4,}")) {
                 section = line;
             } else if (line.equals("The constants:")) {
                 section = "CONSTANTS";
-            } else if (line.startsWith("The constructor and the methods follow")) {
-                section = "";
-            } else if (!line.isBlank() && !line.matches("(##|`|----).*")) {
+            } else if (!line.isBlank() && !line.matches("(#|`|----).*")) {
+                if (line.startsWith("The constructor and the methods follow")) {
+                    section = "SIGNATURES";
+                }
                 for (String text : line.strip().split("(?<=;) +|(?<=\\.) +(?=[A-Z(@\"])")) {
                     clauses.add(new Clause(section, text));
                 }
@@ -102,10 +105,12 @@ final class Document {
         return clauses;
     }
 
-    private static String description() {
+    /** The document from its first line, without the class's face (LanguageTest has it) and what is not promised. */
+    private static String whatIsPromised() {
         try {
             String document = Files.readString(DOCUMENT);
-            return document.substring(document.indexOf("## Description"), document.indexOf("## Not promised"));
+            return document.substring(0, document.indexOf("## The public face"))
+                + document.substring(document.indexOf("## Description"), document.indexOf("## Not promised"));
         } catch (IOException unread) {
             throw new AssertionError(unread);
         }
