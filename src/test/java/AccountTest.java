@@ -1,14 +1,9 @@
 /** Promises 6 to 15: what the account tells of its money; and how a day passes. */
 final class AccountTest {
     public static void main(String[] args) {
-        sums();
-        availableMoney();
-        interest();
-        basisAndRate();
-        interestBeyondAnInt();
-        orderOfADay();
-        paymentsInOrder();
-        graceOfADay();
+        Check.parts(AccountTest::sums, AccountTest::availableMoney, AccountTest::interest, AccountTest::basisAndRate,
+            AccountTest::interestBeyondAnInt, AccountTest::orderOfADay, AccountTest::paymentsInOrder,
+            AccountTest::graceOfADay);
         Check.end("AccountTest");
     }
 

@@ -60,6 +60,18 @@ final class Check {
         }
     }
 
+    /** Runs the parts of a test; one that ends with an exception counts as wrong, and the next ones are still run. */
+    static void parts(Runnable... parts) {
+        for (Runnable part : parts) {
+            try {
+                part.run();
+            } catch (RuntimeException | AssertionError thrown) {
+                StackTraceElement[] places = thrown.getStackTrace();
+                report("a call " + (places.length > 0 ? "that ended in " + places[0] : ""), thrown.toString(), "no exception");
+            }
+        }
+    }
+
     static void report(String what, String got, String want) {
         wrong++;
         if (wrong <= 40) {

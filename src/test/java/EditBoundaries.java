@@ -6,22 +6,11 @@ final class EditBoundaries {
     }
 
     static void run() {
-        deposit();
-        submit();
-        approve();
-        pay();
-        payNotPossible();
-        dispute();
-        withdraw();
-        resolve();
-        cancel();
-        payInterest();
-        close();
-        setRate();
-        setGrace();
-        pass();
-        undo();
-        manyCalls();
+        Check.parts(EditBoundaries::deposit, EditBoundaries::submit, EditBoundaries::approve, EditBoundaries::pay,
+            EditBoundaries::payNotPossible, EditBoundaries::dispute, EditBoundaries::withdraw,
+            EditBoundaries::resolve, EditBoundaries::cancel, EditBoundaries::payInterest, EditBoundaries::close,
+            EditBoundaries::setRate, EditBoundaries::setGrace, EditBoundaries::pass, EditBoundaries::undo,
+            EditBoundaries::manyCalls);
     }
 
     private static void deposit() {

@@ -4,24 +4,11 @@ final class EditsTest {
     private static final int[] NO_SUCH = {-1, 2, 10, Integer.MIN_VALUE, Integer.MAX_VALUE};
 
     public static void main(String[] args) {
-        wrongIndices();
-        deposit();
-        submit();
-        approve();
-        pay();
-        dispute();
-        withdraw();
-        resolve();
-        cancel();
-        payInterest();
-        close();
-        setRate();
-        setGrace();
-        pass();
-        undoOfEach();
-        undoAtMostTen();
-        undoOfTheLedger();
-        throwsAreNoEdits();
+        Check.parts(EditsTest::wrongIndices, EditsTest::deposit, EditsTest::submit, EditsTest::approve,
+            EditsTest::pay, EditsTest::dispute, EditsTest::withdraw, EditsTest::resolve, EditsTest::cancel,
+            EditsTest::payInterest, EditsTest::close, EditsTest::setRate, EditsTest::setGrace, EditsTest::pass,
+            EditsTest::undoOfEach, EditsTest::undoAtMostTen, EditsTest::undoOfTheLedger,
+            EditsTest::throwsAreNoEdits);
         Check.end("EditsTest");
     }
 

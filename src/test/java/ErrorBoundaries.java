@@ -10,17 +10,10 @@ final class ErrorBoundaries {
     }
 
     static void run() {
-        constants();
-        whatDoesNotExist();
-        indexIsCheckedFirst();
-        outOfRange();
-        rangeIsCheckedNext();
-        notPossible();
-        refusedCallsChangeNothing();
-        whatAnEditIs();
-        editsThatChangedNothing();
-        tenEdits();
-        loadForgets();
+        Check.parts(ErrorBoundaries::constants, ErrorBoundaries::whatDoesNotExist,
+            ErrorBoundaries::indexIsCheckedFirst, ErrorBoundaries::outOfRange, ErrorBoundaries::rangeIsCheckedNext,
+            ErrorBoundaries::notPossible, ErrorBoundaries::refusedCallsChangeNothing, ErrorBoundaries::whatAnEditIs,
+            ErrorBoundaries::editsThatChangedNothing, ErrorBoundaries::tenEdits, ErrorBoundaries::loadForgets);
     }
 
     private static void constants() {

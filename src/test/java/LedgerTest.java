@@ -1,12 +1,8 @@
 /** Promises 56 to 61: write, written, entries, entry, totalOn, busiestDay. */
 final class LedgerTest {
     public static void main(String[] args) {
-        lines();
-        written();
-        entries();
-        keptEntries();
-        totals();
-        busiestDay();
+        Check.parts(LedgerTest::lines, LedgerTest::written, LedgerTest::entries, LedgerTest::keptEntries,
+            LedgerTest::totals, LedgerTest::busiestDay);
         Check.end("LedgerTest");
     }
 

@@ -3,21 +3,11 @@ final class MilestonesTest {
     private static final int[] NO_SUCH = {-1, 2, 3, 10, 11, Integer.MIN_VALUE, Integer.MAX_VALUE};
 
     public static void main(String[] args) {
-        wrongMilestones();
-        statesAndAmounts();
-        dueDays();
-        conditions();
-        precedence();
-        deepConditions();
-        dayByClock();
-        missingProofs();
-        counts();
-        graceLeft();
-        proofs();
-        wouldHold();
-        dueRanks();
-        shortage();
-        tenMilestones();
+        Check.parts(MilestonesTest::wrongMilestones, MilestonesTest::statesAndAmounts, MilestonesTest::dueDays,
+            MilestonesTest::conditions, MilestonesTest::precedence, MilestonesTest::deepConditions,
+            MilestonesTest::dayByClock, MilestonesTest::missingProofs, MilestonesTest::counts,
+            MilestonesTest::graceLeft, MilestonesTest::proofs, MilestonesTest::wouldHold, MilestonesTest::dueRanks,
+            MilestonesTest::shortage, MilestonesTest::tenMilestones);
         Check.end("MilestonesTest");
     }
 

@@ -4,24 +4,12 @@ final class MoneyBoundaries {
     }
 
     static void run() {
-        heldMoney();
-        amounts();
-        states();
-        frozenMoney();
-        payments();
-        paidOrSettled();
-        dayFact();
-        proofDoneAndSum();
-        approvedAndAlways();
-        andBeforeOr();
-        dayByDay();
-        credits();
-        becomingDue();
-        payingTheDue();
-        orderOfPayments();
-        ledgerKinds();
-        ledgerParts();
-        keptEntries();
+        Check.parts(MoneyBoundaries::heldMoney, MoneyBoundaries::amounts, MoneyBoundaries::states,
+            MoneyBoundaries::frozenMoney, MoneyBoundaries::payments, MoneyBoundaries::paidOrSettled,
+            MoneyBoundaries::dayFact, MoneyBoundaries::proofDoneAndSum, MoneyBoundaries::approvedAndAlways,
+            MoneyBoundaries::andBeforeOr, MoneyBoundaries::dayByDay, MoneyBoundaries::credits,
+            MoneyBoundaries::becomingDue, MoneyBoundaries::payingTheDue, MoneyBoundaries::orderOfPayments,
+            MoneyBoundaries::ledgerKinds, MoneyBoundaries::ledgerParts, MoneyBoundaries::keptEntries);
     }
 
     private static void heldMoney() {

@@ -23,15 +23,10 @@ final class OpeningBoundaries {
     }
 
     static void run() {
-        buyerAndSeller();
-        milestonesReached();
-        graceAndParts();
-        disputes();
-        interestByDays();
-        textLedgerUndoTrial();
-        lastPromisedCall();
-        laterCalls();
-        signatures();
+        Check.parts(OpeningBoundaries::buyerAndSeller, OpeningBoundaries::milestonesReached,
+            OpeningBoundaries::graceAndParts, OpeningBoundaries::disputes, OpeningBoundaries::interestByDays,
+            OpeningBoundaries::textLedgerUndoTrial, OpeningBoundaries::lastPromisedCall,
+            OpeningBoundaries::laterCalls, OpeningBoundaries::signatures);
     }
 
     private static void buyerAndSeller() {

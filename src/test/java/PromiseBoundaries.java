@@ -15,13 +15,9 @@ final class PromiseBoundaries {
     }
 
     static void run() {
-        milestonesThatDoNotExist();
-        days();
-        shares();
-        amounts();
-        ratesAndGrace();
-        kindsAndParts();
-        sets();
+        Check.parts(PromiseBoundaries::milestonesThatDoNotExist, PromiseBoundaries::days, PromiseBoundaries::shares,
+            PromiseBoundaries::amounts, PromiseBoundaries::ratesAndGrace, PromiseBoundaries::kindsAndParts,
+            PromiseBoundaries::sets);
     }
 
     /** Milestones that are open, and ones that are disputed, as many as asked for, with money enough. */

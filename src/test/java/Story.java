@@ -1,5 +1,8 @@
 /** What a desk tells, as texts that can be compared. */
 final class Story {
+    /** More than any output, name or history has, so that a desk that never ends does not hold up the tests. */
+    private static final int MOST = 100;
+
     private Story() {
     }
 
@@ -11,7 +14,7 @@ final class Story {
         }
         for (int proof = 0; proof < x.proofs(); proof++) {
             told.append('\n').append(x.isSubmitted(proof)).append(' ');
-            for (int index = 0; !outcome(x, proof, index).startsWith("Index"); index++) {
+            for (int index = 0; index < MOST && !outcome(x, proof, index).startsWith("Index"); index++) {
                 told.append(x.proofCharacter(proof, index));
             }
         }
@@ -65,7 +68,7 @@ final class Story {
     private static String output(EscrowDesk x) {
         StringBuilder output = new StringBuilder("<");
         int length = 0;
-        while (!isEnd(x, length)) {
+        while (length < MOST && !isEnd(x, length)) {
             output.append(x.written(length));
             length++;
         }
@@ -84,7 +87,7 @@ final class Story {
         StringBuilder told = new StringBuilder(now(x));
         told.append("\nerror ").append(x.errorKind()).append(' ').append(x.errorPosition()).append("\nundo");
         int left = x.undo();
-        while (left >= 0) {
+        for (int undone = 0; left >= 0 && undone < MOST; undone++) {
             told.append('\n').append(left).append('\n').append(account(x));
             for (int milestone = 0; milestone < x.milestones(); milestone++) {
                 told.append('\n').append(milestone(x, milestone)).append(Desks.line(x, milestone));

@@ -7,28 +7,14 @@ final class TellingBoundaries {
     }
 
     static void run() {
-        newObject();
-        feed();
-        load();
-        errors();
-        sums();
-        interest();
-        milestones();
-        dueDay();
-        holds();
-        dayByClock();
-        missingProofs();
-        counts();
-        graceLeft();
-        proofs();
-        wouldHold();
-        dueAt();
-        shortage();
-        write();
-        written();
-        entries();
-        totals();
-        busiestDay();
+        Check.parts(TellingBoundaries::newObject, TellingBoundaries::feed, TellingBoundaries::load,
+            TellingBoundaries::errors, TellingBoundaries::sums, TellingBoundaries::interest,
+            TellingBoundaries::milestones, TellingBoundaries::dueDay, TellingBoundaries::holds,
+            TellingBoundaries::dayByClock, TellingBoundaries::missingProofs, TellingBoundaries::counts,
+            TellingBoundaries::graceLeft, TellingBoundaries::proofs, TellingBoundaries::wouldHold,
+            TellingBoundaries::dueAt, TellingBoundaries::shortage, TellingBoundaries::write,
+            TellingBoundaries::written, TellingBoundaries::entries, TellingBoundaries::totals,
+            TellingBoundaries::busiestDay);
     }
 
     private static void newObject() {

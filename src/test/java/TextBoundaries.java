@@ -9,25 +9,12 @@ final class TextBoundaries {
     }
 
     static void run() {
-        length();
-        tokenSizes();
-        tokensExtend();
-        blanks();
-        otherBytes();
-        statements();
-        conditions();
-        numbers();
-        quotedWords();
-        names();
-        defaults();
-        repeatedStatements();
-        counts();
-        proofCounts();
-        openWithinEachOther();
-        firstError();
-        endOfText();
-        kinds();
-        smallerKind();
+        Check.parts(TextBoundaries::length, TextBoundaries::tokenSizes, TextBoundaries::tokensExtend,
+            TextBoundaries::blanks, TextBoundaries::otherBytes, TextBoundaries::statements,
+            TextBoundaries::conditions, TextBoundaries::numbers, TextBoundaries::quotedWords, TextBoundaries::names,
+            TextBoundaries::defaults, TextBoundaries::repeatedStatements, TextBoundaries::counts,
+            TextBoundaries::proofCounts, TextBoundaries::openWithinEachOther, TextBoundaries::firstError,
+            TextBoundaries::endOfText, TextBoundaries::kinds, TextBoundaries::smallerKind);
     }
 
     private static void length() {

@@ -3,19 +3,10 @@ final class TextTest {
     private static final String M = "milestone a 10 1 when ";
 
     public static void main(String[] args) {
-        newObject();
-        feed();
-        loadLength();
-        legalTexts();
-        illegalTokens();
-        unexpectedTokens();
-        ranges();
-        names();
-        tooMany();
-        badTextKeepsAll();
-        goodTextRenewsAll();
-        textsOneAfterAnother();
-        textsOfManyTokens();
+        Check.parts(TextTest::newObject, TextTest::feed, TextTest::loadLength, TextTest::legalTexts,
+            TextTest::illegalTokens, TextTest::unexpectedTokens, TextTest::ranges, TextTest::names,
+            TextTest::tooMany, TextTest::badTextKeepsAll, TextTest::goodTextRenewsAll,
+            TextTest::textsOneAfterAnother, TextTest::textsOfManyTokens);
         Check.end("TextTest");
     }
 

@@ -6,12 +6,9 @@ final class TrialBoundaries {
     }
 
     static void run() {
-        paymentsAndCredits();
-        daysUntilClosed();
-        splitPayment();
-        shareFor();
-        shortDay();
-        asIfTheDaysHadPassed();
+        Check.parts(TrialBoundaries::paymentsAndCredits, TrialBoundaries::daysUntilClosed,
+            TrialBoundaries::splitPayment, TrialBoundaries::shareFor, TrialBoundaries::shortDay,
+            TrialBoundaries::asIfTheDaysHadPassed);
     }
 
     private static void paymentsAndCredits() {

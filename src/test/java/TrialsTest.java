@@ -1,15 +1,9 @@
 /** Promises 35 to 41: the trials on a copy of the account. */
 final class TrialsTest {
     public static void main(String[] args) {
-        ranges();
-        paymentsAhead();
-        creditsAhead();
-        daysUntilClosed();
-        splits();
-        shares();
-        shortDays();
-        trialsChangeNothing();
-        trialsBeyondTheLastDay();
+        Check.parts(TrialsTest::ranges, TrialsTest::paymentsAhead, TrialsTest::creditsAhead,
+            TrialsTest::daysUntilClosed, TrialsTest::splits, TrialsTest::shares, TrialsTest::shortDays,
+            TrialsTest::trialsChangeNothing, TrialsTest::trialsBeyondTheLastDay);
         Check.end("TrialsTest");
     }
 
