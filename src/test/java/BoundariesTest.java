@@ -9,6 +9,7 @@ final class BoundariesTest {
         TellingBoundaries.run();
         TrialBoundaries.run();
         EditBoundaries.run();
+        CloserBoundaries.run();
         Document.everyClauseIsTested();
         Check.end("BoundariesTest");
     }

@@ -23,7 +23,7 @@ final class OpeningBoundaries {
     }
 
     static void run() {
-        Check.parts(OpeningBoundaries::buyerAndSeller, OpeningBoundaries::milestonesReached,
+        Check.parts(OpeningBoundaries::buyerAndSeller, OpeningBoundaries::deposits, OpeningBoundaries::milestonesReached,
             OpeningBoundaries::graceAndParts, OpeningBoundaries::disputes, OpeningBoundaries::interestByDays,
             OpeningBoundaries::textLedgerUndoTrial, OpeningBoundaries::lastPromisedCall,
             OpeningBoundaries::laterCalls, OpeningBoundaries::signatures);
@@ -38,6 +38,9 @@ final class OpeningBoundaries {
         Check.due("the rest", 200, x.close());
         Check.due("is the buyer's", 200, x.refunded());
         Check.due("nobody else has a part", x.deposited(), x.received() + x.fees() + x.refunded() + x.principal());
+    }
+
+    private static void deposits() {
         Document.says(SECTION, "The buyer deposits money;");
         EscrowDesk y = Desks.of("deposit 70;");
         Check.due("by the text", 70, y.deposited());
