@@ -78,7 +78,9 @@ final class ReadmeTest {
         while (promise.find()) {
             int end = document.indexOf("\n## ", promise.end());
             String text = document.substring(promise.end(), end);
-            promises.put(promise.group(2), words(text.replaceAll("----.*", "").replaceAll("(?m)^- |`(?=\\w+` if)|(?<=Throws `\\w{1,40})`", "")));
+            // Without the marks of the document's form: lines of dashes, bullets, and the signs round an exception's name.
+            String plain = text.replaceAll("----.*", "").replaceAll("(?m)^- ", "").replaceAll("Throws `(\\w+)`", "Throws $1");
+            promises.put(promise.group(2), words(plain));
         }
         return promises;
     }

@@ -15,13 +15,11 @@ import java.util.function.Supplier;
  */
 final class Refusals {
     private static final List<String> EDITS = List.of("deposit", "submit", "approve", "pay", "dispute", "withdraw", "resolve",
-        "cancel",
-        "payInterest", "close", "setRate", "setGrace", "pass");
+        "cancel", "payInterest", "close", "setRate", "setGrace", "pass");
     private static final List<String> APART = List.of("feed", "load", "undo", "write");
     private static final int[] PLACES = {-1, 0, 1, 2, 3, 4, 5, 6, 7, 8, 9, 10, 59, 60, Integer.MIN_VALUE, Integer.MAX_VALUE};
     private static final int[] VALUES = {Integer.MIN_VALUE, -1, 0, 1, 2, 3, 4, 5, 40, 59, 60, 61, 120, 121, 359, 360, 361, 365,
-        366, 1000, 1001,
-        1023, 1024, 3000, 3001, 99999, 100000, Integer.MAX_VALUE};
+        366, 1000, 1001, 1023, 1024, 3000, 3001, 99999, 100000, Integer.MAX_VALUE};
     private static final String RICH = "rate 3000 360;fee 500;grace 3;deposit 900;deposit 90;"
         + "milestone open 40 1 when proof pa and approved;milestone due 300 2 when proof pb or day 2;"
         + "milestone disputed 50 1 when always;milestone paid 60 3 when sum 20;milestone settled 70 1 when day 900;"
